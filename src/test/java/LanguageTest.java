@@ -1,0 +1,123 @@
+import java.io.IOException;
+import java.lang.reflect.Constructor;
+import java.lang.reflect.Field;
+import java.lang.reflect.Method;
+import java.lang.reflect.Modifier;
+import java.nio.file.Files;
+import java.nio.file.Path;
+import java.util.Arrays;
+import java.util.HashSet;
+import java.util.Set;
+import java.util.TreeSet;
+import java.util.regex.Matcher;
+import java.util.regex.Pattern;
+
+/** The face of the document, and what of LANGUAGE.md can be seen in the source without reading it closely. */
+final class LanguageTest {
+    private static final String[] FORBIDDEN = {"throw", "throws", "try", "catch", "finally", "synchronized", "assert",
+        "import", "package", "instanceof", "Exception", "Exact", "->", "::", "static\\s*\\{", "hashCode", "toString",
+        "System\\.(?!arraycopy)", "float", "double", "strictfp", "native", "volatile", "transient", "protected"};
+
+    private LanguageTest() {
+    }
+
+    public static void main(String[] args) throws IOException {
+        String document = Files.readString(Path.of(System.getProperty("face")));
+        String source = Files.readString(Path.of(System.getProperty("source")));
+        face(document);
+        privateNames();
+        words(source);
+        Due.end("LanguageTest");
+    }
+
+    private static void face(String document) {
+        String block = document.substring(document.indexOf("```java") + 7);
+        block = block.substring(0, block.indexOf("```"));
+        Set<String> due = new TreeSet<>();
+        Matcher method = Pattern.compile("public (int|long|boolean|String) (\\w+)\\((.*?)\\);").matcher(block);
+        while (method.find()) {
+            String parameters = method.group(3).replaceAll("(\\w+) \\w+", "$1").replace(" ", "");
+            due.add(method.group(1) + " " + method.group(2) + "(" + parameters + ")");
+        }
+        Matcher constants = Pattern.compile("static final int (.*?);").matcher(block);
+        while (constants.find()) {
+            for (String constant : constants.group(1).split(",")) {
+                due.add(constant.trim());
+            }
+        }
+        same("face", openMembers(), due);
+        Due.due("final", BeamTurnstiles.class.getModifiers(), Modifier.PUBLIC | Modifier.FINAL);
+        Constructor<?>[] constructors = BeamTurnstiles.class.getDeclaredConstructors();
+        Due.due("constructors", constructors.length, 1);
+        Due.due("public constructor", constructors[0].getModifiers(), Modifier.PUBLIC);
+        Due.due("its parameters", constructors[0].getParameterCount(), 0);
+    }
+
+    private static Set<String> openMembers() {
+        Set<String> open = new TreeSet<>();
+        for (Method method : BeamTurnstiles.class.getDeclaredMethods()) {
+            if (!Modifier.isPrivate(method.getModifiers())) {
+                StringBuilder parameters = new StringBuilder();
+                for (Class<?> type : method.getParameterTypes()) {
+                    parameters.append(parameters.length() == 0 ? "" : ",").append(type.getName());
+                }
+                open.add(method.getReturnType().getName() + " " + method.getName() + "(" + parameters + ")");
+            }
+        }
+        for (Field field : BeamTurnstiles.class.getDeclaredFields()) {
+            if (!Modifier.isPrivate(field.getModifiers())) {
+                open.add(field.getName() + " = " + valueOf(field));
+            }
+        }
+        return open;
+    }
+
+    private static String valueOf(Field field) {
+        try {
+            return String.valueOf(field.get(null));
+        } catch (IllegalAccessException e) {
+            return "not to be read";
+        }
+    }
+
+    private static void privateNames() {
+        Set<String> open = new HashSet<>();
+        for (Method method : BeamTurnstiles.class.getMethods()) {
+            open.add(method.getName());
+        }
+        Set<Class<?>> classes = new HashSet<>(Arrays.asList(BeamTurnstiles.class.getDeclaredClasses()));
+        for (Class<?> inside : classes) {
+            Due.due("static: " + inside, Modifier.isStatic(inside.getModifiers()) ? 1 : 0, 1);
+            Due.due("not public: " + inside, Modifier.isPublic(inside.getModifiers()) ? 1 : 0, 0);
+        }
+        classes.add(BeamTurnstiles.class);
+        for (Class<?> any : classes) {
+            for (Method method : any.getDeclaredMethods()) {
+                boolean borrowed = !Modifier.isPublic(method.getModifiers()) && open.contains(method.getName());
+                Due.due("a name of the face is used again: " + method, borrowed ? 1 : 0, 0);
+            }
+            for (Field field : any.getDeclaredFields()) {
+                boolean loose = Modifier.isStatic(field.getModifiers()) && !Modifier.isFinal(field.getModifiers());
+                Due.due("static and not final: " + field, loose ? 1 : 0, 0);
+            }
+        }
+    }
+
+    private static void words(String source) {
+        String code = source.replaceAll("(?s)/\\*.*?\\*/", "").replaceAll("//[^\n]*", "");
+        for (String word : FORBIDDEN) {
+            String whole = Character.isLetter(word.charAt(0)) ? "\\b" + word : word;
+            String end = Character.isLetter(word.charAt(word.length() - 1)) ? "\\b" : "";
+            Due.due("used: " + word, Pattern.compile(whole + end).matcher(code).find() ? 1 : 0, 0);
+        }
+        Due.due("ASCII alone", source.chars().allMatch(c -> c < 128) ? 1 : 0, 1);
+    }
+
+    private static void same(String what, Set<String> got, Set<String> want) {
+        boolean equal = got.equals(want);
+        if (!equal) {
+            System.out.println(what + " is " + got + ", due is " + want);
+        }
+        Due.due(what, equal ? 1 : 0, 1);
+    }
+}
