@@ -1,4 +1,4 @@
-/** Turnstiles that count people by the order in which two beams a gate are cut and freed. */
+/** Turnstiles that count people by the order in which the two beams of a gate are cut and freed. */
 public final class BeamTurnstiles {
     public static final int NO_SUCH = -1, BAD_VALUE = -2, BAD_TEXT = -3, TOO_MANY = -4, NOT_POSSIBLE = -5, NONE = -6;
     public static final int SLOW = 0, TAIL = 1, LIMIT = 2;
@@ -41,7 +41,7 @@ public final class BeamTurnstiles {
         if (value < LOWEST[setting] || value > HIGHEST[setting]) {
             return BAD_VALUE;
         }
-        history.record(hall.row);
+        history.keep(hall.row);
         int previous = hall.row[setting];
         hall.row[setting] = value;
         return previous;
@@ -54,7 +54,7 @@ public final class BeamTurnstiles {
         if (beam < 0 || beam >= BEAMS_OR_BOTH) {
             return BAD_VALUE;
         }
-        history.record(hall.row);
+        history.keep(hall.row);
         return hall.change(gate, beam);
     }
 
@@ -65,7 +65,7 @@ public final class BeamTurnstiles {
         if (!hall.hasRoomFor(ticks)) {
             return TOO_MANY;
         }
-        history.record(hall.row);
+        history.keep(hall.row);
         hall.goBy(ticks);
         return Integer.bitCount(hall.blockedMask());
     }
@@ -74,7 +74,7 @@ public final class BeamTurnstiles {
         if (pad.firstFault() != NONE) {
             return BAD_TEXT;
         }
-        history.record(hall.row);
+        history.keep(hall.row);
         int ended = pad.happenIn(hall);
         pad.empty();
         return ended;
@@ -84,7 +84,7 @@ public final class BeamTurnstiles {
         if (people < 0 || people > MOST_PEOPLE_BY_HAND) {
             return BAD_VALUE;
         }
-        history.record(hall.row);
+        history.keep(hall.row);
         int before = hall.row[Hall.PEOPLE];
         hall.becomeInside(people);
         return before;
@@ -97,7 +97,7 @@ public final class BeamTurnstiles {
         if (!hall.isUnderWay(gate)) {
             return NOT_POSSIBLE;
         }
-        history.record(hall.row);
+        history.keep(hall.row);
         return hall.free(gate);
     }
 
@@ -262,7 +262,7 @@ public final class BeamTurnstiles {
         if (!saved[slot]) {
             return NOT_POSSIBLE;
         }
-        history.record(hall.row);
+        history.keep(hall.row);
         copyRow(slots[slot], hall.row);
         return hall.row[Hall.PEOPLE];
     }
@@ -410,7 +410,9 @@ public final class BeamTurnstiles {
 
         void becomeInside(int people) {
             row[PEOPLE] = people;
-            row[MOST_PEOPLE] = Math.max(row[MOST_PEOPLE], people);
+            if (people > row[MOST_PEOPLE]) {
+                row[MOST_PEOPLE] = people;
+            }
         }
 
         boolean hasRoomFor(int ticks) {
@@ -586,45 +588,40 @@ public final class BeamTurnstiles {
         }
 
         private static int beamOf(char c) {
-            switch (c) {
-                case 'o':
-                    return 0;
-                case 'i':
-                    return 1;
-                case 'b':
-                    return BOTH;
-                default:
-                    return NONE;
+            if (c == 'o') {
+                return 0;
             }
+            if (c == 'i') {
+                return 1;
+            }
+            return c == 'b' ? BOTH : NONE;
         }
 
         /** Lets the events of a text without a fault happen, and returns how many passages end by them. */
         int happenIn(Hall hall) {
             int ended = 0;
             int start = 0;
-            while (start < length) {
-                int end = endOfEvent(start);
-                if (text[start] == '.') {
-                    letGoBy(hall, numberIn(start + 1, end));
-                } else if (isGateDigit(text[start])) {
-                    ended += changeBeams(hall, text[start] - '0', start + 1, end);
+            for (int at = 0; at <= length; at++) {
+                boolean behindEvent = at == length || text[at] == ';';
+                if (behindEvent && start < at) {
+                    if (text[start] == '.') {
+                        letGoBy(hall, numberIn(start + 1, at));
+                    } else {
+                        ended += changeBeams(hall, start, at);
+                    }
+                    start = at + 1;
                 }
-                start = end + 1;
             }
             return ended;
         }
 
-        private int endOfEvent(int start) {
-            int end = start;
-            while (end < length && text[end] != ';') {
-                end++;
+        private int changeBeams(Hall hall, int start, int end) {
+            int gate = text[start] - '0';
+            if (isNoGate(gate)) {
+                return 0;
             }
-            return end;
-        }
-
-        private int changeBeams(Hall hall, int gate, int from, int end) {
             int ended = 0;
-            for (int at = from; at < end; at++) {
+            for (int at = start + 1; at < end; at++) {
                 int beam = beamOf(text[at]);
                 // Each change gives another look, so one that leaves it at 0 has ended a passage.
                 if (beam >= 0 && hall.change(gate, beam) == 0) {
@@ -657,7 +654,7 @@ public final class BeamTurnstiles {
         private int next = 0;
         int size = 0;
 
-        void record(int[] row) {
+        void keep(int[] row) {
             copyRow(row, rows[next]);
             next = next + 1 < MOST ? next + 1 : 0;
             size = Math.min(size + 1, MOST);

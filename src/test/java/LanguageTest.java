@@ -22,8 +22,8 @@ final class LanguageTest {
     }
 
     public static void main(String[] args) throws IOException {
-        String document = Files.readString(Path.of(System.getProperty("face")));
-        String source = Files.readString(Path.of(System.getProperty("source")));
+        String document = Files.readString(Path.of("../shared/DOC.md"));
+        String source = Files.readString(Path.of("src/main/java/BeamTurnstiles.java"));
         face(document);
         privateNames();
         words(source);

@@ -11,6 +11,7 @@ final class TellingTest {
         gatesUnderWay();
         wrongGates();
         counts();
+        masks();
         wrongCounts();
         means();
         busiestGate();
@@ -81,6 +82,19 @@ final class TellingTest {
         Due.due("at most 6", x.count(17), 6);
     }
 
+    private static void masks() {
+        BeamTurnstiles x = new BeamTurnstiles();
+        for (int gate = 0; gate < 6; gate++) {
+            x.event(gate, 2);
+            Due.due("under way", x.count(15), (2 << gate) - 1);
+            x.pass(30);
+            Due.due("blocked", x.count(14), (2 << gate) - 1);
+        }
+        x.event(0, 2);
+        Due.due("under way but for 0", x.count(15), 62);
+        Due.due("blocked but for 0", x.count(14), 62);
+    }
+
     private static void wrongCounts() {
         BeamTurnstiles x = new BeamTurnstiles();
         for (int wrong : WRONG) {
@@ -121,6 +135,8 @@ final class TellingTest {
         Due.due("2", x.busiest(), 2);
         Due.readText(x, "4ioio;4oioi;4oioi");
         Due.due("4", x.busiest(), 4);
+        Due.readText(x, "0oioi;0oioi;0oioi");
+        Due.due("0, as the lowest", x.busiest(), 0);
     }
 
     private static void nothingChanges() {

@@ -129,5 +129,8 @@ final class WhatIfTest {
         x.set(0, 21);
         Due.due("the other", x.untilBlocked(), 1);
         Due.due("history", x.count(17), 6);
+        for (int gate = 0; gate < 6; gate++) {
+            Due.due("each gate", Due.after(gate + "b;.11").untilBlocked(), 19);
+        }
     }
 }
