@@ -2,15 +2,29 @@
 final class Due {
     private static int wrong = 0;
     private static int compared = 0;
+    private static String sentence = "";
 
     private Due() {
+    }
+
+    /** Names the sentence of the document, in its own words, that the answers from here on are about. */
+    static void about(String words) {
+        sentence = "\"" + words + "\": ";
     }
 
     static void due(String call, long got, long want) {
         compared++;
         if (got != want) {
             wrong++;
-            System.out.println(call + " answered " + got + ", due is " + want);
+            System.out.println(sentence + call + " answered " + got + ", due is " + want);
+        }
+    }
+
+    static void same(String what, String got, String want) {
+        compared++;
+        if (!got.equals(want)) {
+            wrong++;
+            System.out.println(sentence + what + " is " + got + ", due is " + want);
         }
     }
 
@@ -38,6 +52,12 @@ final class Due {
         }
     }
 
+    /** Puts one number's worth of text behind what the pad holds. */
+    static void append(BeamTurnstiles x, String text) {
+        int length = x.count(16);
+        due("put " + text, x.put(packed(text)), length + text.length());
+    }
+
     /** Reads a text on an empty pad and returns what read() answers. */
     static int readText(BeamTurnstiles x, String text) {
         putText(x, text);
@@ -48,5 +68,22 @@ final class Due {
         BeamTurnstiles x = new BeamTurnstiles();
         readText(x, text);
         return x;
+    }
+
+    /** An object at a tick, where nothing else has happened. */
+    static BeamTurnstiles atTick(int tick) {
+        BeamTurnstiles x = new BeamTurnstiles();
+        for (int left = tick; left > 0; left -= 999) {
+            x.pass(Math.min(left, 999));
+        }
+        due("ticks", x.count(3), tick);
+        return x;
+    }
+
+    /** Somebody comes through a gate at one tick: in by "oioi", out by "ioio". */
+    static void events(BeamTurnstiles x, int gate, String letters) {
+        for (int k = 0; k < letters.length(); k++) {
+            x.event(gate, "oib".indexOf(letters.charAt(k)));
+        }
     }
 }
