@@ -231,16 +231,8 @@ final class ChangesTest {
         Due.due("two yet", x.pass(1), 2);
     }
 
-    private static BeamTurnstiles nearTheEnd(int ticks) {
-        BeamTurnstiles x = new BeamTurnstiles();
-        while (x.count(3) < ticks) {
-            x.pass(Math.min(999, ticks - x.count(3)));
-        }
-        return x;
-    }
-
     private static void ticksHaveAnEnd() {
-        BeamTurnstiles x = nearTheEnd(99990);
+        BeamTurnstiles x = Due.atTick(99990);
         Due.due("pass 10", x.pass(10), TOO_MANY);
         Due.due("pass 1000 first", x.pass(1000), BAD_VALUE);
         Due.due("still", x.count(3), 99990);
@@ -269,7 +261,7 @@ final class ChangesTest {
     }
 
     private static void readingAtTheEndOfTicks() {
-        BeamTurnstiles x = nearTheEnd(99990);
+        BeamTurnstiles x = Due.atTick(99990);
         Due.due("read", Due.readText(x, "0o;.10;0o;.4;1o;.6;.5;1o"), 2);
         Due.due("too many ticks are passed over, fewer are not", x.count(3), 99999);
         Due.due("the passage took none of them", x.gate(0, 1), NONE);

@@ -313,15 +313,18 @@ final class SavingBoundsTest {
 
     private static void restoreIsKept() {
         Due.about("Restores what was saved last in a slot, which keeps it.");
-        BeamTurnstiles x = Due.after("0oio;.5");
+        BeamTurnstiles x = Due.after("2oioioioi;0oio;.5");
         x.save(0);
         String state = Whole.state(x);
         for (int k = 0; k < 3; k++) {
             Due.readText(x, "0i;1oioi;.30;2b");
-            Due.due("people", x.count(4), 2);
-            Due.due("restore", x.restore(0), 0);
+            Due.due("people", x.count(4), 4);
+            Due.due("restore", x.restore(0), 2);
             Due.same("the state", Whole.state(x), state);
         }
+        x.restore(0);
+        Due.due("restored twice in a row", x.restore(0), 2);
+        Due.same("the state", Whole.state(x), state);
     }
 
     private static void restoreIsAChange() {

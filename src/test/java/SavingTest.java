@@ -19,24 +19,6 @@ final class SavingTest {
         Due.end("SavingTest");
     }
 
-    /** All that count() and gate() tell but for the pad's length and the history's. */
-    private static String everything(BeamTurnstiles x) {
-        StringBuilder all = new StringBuilder();
-        for (int what = 0; what < 16; what++) {
-            all.append(x.count(what)).append(' ');
-        }
-        for (int gate = 0; gate < 6; gate++) {
-            for (int what = 0; what < 13; what++) {
-                all.append(x.gate(gate, what)).append(' ');
-            }
-        }
-        return all.toString();
-    }
-
-    private static void same(String what, String got, String want) {
-        Due.due(what, got.equals(want) ? 1 : 0, 1);
-    }
-
     private static void change(BeamTurnstiles x, int which) {
         switch (which) {
             case 0 -> x.set(1, 7);
@@ -55,13 +37,13 @@ final class SavingTest {
             Due.due("save", x.save(0), 1);
             Due.due("save", x.save(1), 1);
             x.pass(1);
-            String before = everything(x);
+            String before = Whole.state(x);
             int could = x.count(17);
             change(x, which);
-            same("change " + which + " changes", everything(x).equals(before) ? "same" : "other", "other");
+            Due.same("change " + which + " changes", Whole.state(x).equals(before) ? "same" : "other", "other");
             Due.due("recorded by " + which, x.count(17), could + 1);
             Due.due("undo " + which, x.undo(), could);
-            same("undone " + which, everything(x), before);
+            Due.same("undone " + which, Whole.state(x), before);
         }
     }
 
@@ -70,15 +52,15 @@ final class SavingTest {
         x.set(2, 1);
         String[] states = new String[6];
         for (int which = 0; which < 6; which++) {
-            states[which] = everything(x);
+            states[which] = Whole.state(x);
             change(x, which);
         }
         for (int which = 5; which >= 0; which--) {
             Due.due("undo", x.undo(), which);
-            same("state " + which, everything(x), states[which]);
+            Due.same("state " + which, Whole.state(x), states[which]);
         }
         Due.due("no more", x.undo(), NOT_POSSIBLE);
-        same("nothing changed by that", everything(x), states[0]);
+        Due.same("nothing changed by that", Whole.state(x), states[0]);
     }
 
     private static void sixStates() {
@@ -164,14 +146,14 @@ final class SavingTest {
         x.set(0, 11);
         x.set(1, 12);
         x.set(2, 13);
-        String saved = everything(x);
+        String saved = Whole.state(x);
         x.save(1);
         Due.readText(x, "0oioi;.40;1oioi;1ioio;1ioio;2oo;3bb;4oi;5b");
         x.set(0, 1);
         x.set(1, 1);
         x.set(2, 1);
         x.restore(1);
-        same("restored", everything(x), saved);
+        Due.same("restored", Whole.state(x), saved);
         // What a tail is measured by comes back, too.
         BeamTurnstiles y = Due.after("0oioi");
         y.save(0);

@@ -33,6 +33,7 @@ final class TellingBoundsTest {
         eventsToNotPossible();
         eventsToEachPlace();
         untilBlockedAtItsBounds();
+        untilBlockedNext();
         untilBlockedNone();
         untilBlockedAtTheEndOfTicks();
         Due.end("TellingBoundsTest");
@@ -138,7 +139,12 @@ final class TellingBoundsTest {
     private static void gateTicksAndLatestEnd() {
         Due.about("11 ticks of all passages that were in or out, together, 12 the tick at which the latest one that was "
             + "in or out ended (NONE)");
-        BeamTurnstiles x = Due.after(".7;3o;.2;3o;3b;.4;3b");
+        BeamTurnstiles x = new BeamTurnstiles();
+        for (int gate = 0; gate < 6; gate++) {
+            Due.due("at first: ticks", x.gate(gate, 11), 0);
+            Due.due("at first: end", x.gate(gate, 12), NONE);
+        }
+        Due.readText(x, ".7;3o;.2;3o;3b;.4;3b");
         x.event(3, 0);
         x.pass(3);
         x.clear(3);
@@ -465,6 +471,21 @@ final class TellingBoundsTest {
         Due.due("all that are under way are blocked", x.untilBlocked(), NONE);
         x.set(0, 31);
         Due.due("not by a longer SLOW", x.untilBlocked(), 1);
+    }
+
+    private static void untilBlockedNext() {
+        Due.about("Tells behind how many ticks the next gate is blocked that is not blocked now");
+        // In whichever order of the gates the passages began.
+        for (int first = 0; first < 6; first++) {
+            for (int second = 0; second < 6; second++) {
+                if (first != second) {
+                    BeamTurnstiles x = Due.after(first + "o;.10;" + second + "b;.10");
+                    Due.due(first + " ahead of " + second, x.untilBlocked(), 10);
+                    x.pass(10);
+                    Due.due(first + " is blocked, " + second + " next", x.untilBlocked(), 10);
+                }
+            }
+        }
     }
 
     private static void untilBlockedAtTheEndOfTicks() {

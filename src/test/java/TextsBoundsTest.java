@@ -109,7 +109,7 @@ final class TextsBoundsTest {
             Due.putText(x, FULL.substring(0, 61 - more));
             Due.due("61 by " + more, x.put(characters), TOO_MANY);
             Due.due("length", x.count(16), 61 - more);
-            Due.due("no fault of it", x.fault(), more == 60 ? 1 : NONE);
+            Due.due("no fault of it", x.fault(), NONE);
             BeamTurnstiles y = new BeamTurnstiles();
             Due.putText(y, FULL.substring(0, 60 - more));
             Due.due("60 by " + more, y.put(characters), 60);
