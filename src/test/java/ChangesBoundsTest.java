@@ -35,7 +35,7 @@ final class ChangesBoundsTest {
     }
 
     private static void nobodyInside() {
-        Due.about("Creates free gates, with nobody inside, at the tick 0.");
+        Due.about("Promise 1", "Creates free gates, with nobody inside, at the tick 0.");
         BeamTurnstiles x = new BeamTurnstiles();
         for (int gate = 0; gate < 6; gate++) {
             Due.due("look of " + gate, x.gate(gate, 0), 0);
@@ -52,7 +52,7 @@ final class ChangesBoundsTest {
     }
 
     private static void noSuchSetting() {
-        Due.about("BAD_VALUE if there is no such setting");
+        Due.about("Promise 2", "BAD_VALUE if there is no such setting");
         BeamTurnstiles x = new BeamTurnstiles();
         for (int setting : new int[] {-1, 3, MIN, MAX}) {
             // 1 and 20 are within the range of every setting.
@@ -65,7 +65,7 @@ final class ChangesBoundsTest {
     }
 
     private static void valuesOutOfRange() {
-        Due.about("BAD_VALUE if there is no such setting, or value is out of its range.");
+        Due.about("Promise 2", "BAD_VALUE if there is no such setting, or value is out of its range.");
         int[] lowest = {1, 0, 1};
         int[] highest = {200, 50, 500};
         int[] first = {30, 3, 20};
@@ -84,7 +84,7 @@ final class ChangesBoundsTest {
     }
 
     private static void previousValues() {
-        Due.about("Returns the previous value");
+        Due.about("Promise 2", "Returns the previous value");
         BeamTurnstiles x = new BeamTurnstiles();
         Due.due("set(1, 0)", x.set(1, 0), 3);
         Due.due("0 is told", x.set(1, 50), 0);
@@ -96,7 +96,7 @@ final class ChangesBoundsTest {
     }
 
     private static void eventsAtGates() {
-        Due.about("NO_SUCH if there is no such gate");
+        Due.about("Promise 3", "NO_SUCH if there is no such gate");
         BeamTurnstiles x = new BeamTurnstiles();
         for (int gate : new int[] {-1, 6, 7, MIN, MAX}) {
             for (int beam = 0; beam < 3; beam++) {
@@ -110,7 +110,7 @@ final class ChangesBoundsTest {
     }
 
     private static void eventsOfBeams() {
-        Due.about("BAD_VALUE if beam is out of range.");
+        Due.about("Promise 3", "BAD_VALUE if beam is out of range.");
         BeamTurnstiles x = new BeamTurnstiles();
         for (int beam : new int[] {-1, 3, 4, MIN, MAX}) {
             Due.due("event(0, " + beam + ")", x.event(0, beam), BAD_VALUE);
@@ -124,7 +124,7 @@ final class ChangesBoundsTest {
     }
 
     private static void eventsInOrderOfErrors() {
-        Due.about("NO_SUCH if there is no such gate; BAD_VALUE if beam is out of range.");
+        Due.about("Promise 3", "NO_SUCH if there is no such gate; BAD_VALUE if beam is out of range.");
         BeamTurnstiles x = new BeamTurnstiles();
         for (int gate : new int[] {-1, 6}) {
             for (int beam : new int[] {-1, 3, MIN, MAX}) {
@@ -134,7 +134,7 @@ final class ChangesBoundsTest {
     }
 
     private static void passOneTo999() {
-        Due.about("BAD_VALUE if ticks is out of range");
+        Due.about("Promise 4", "BAD_VALUE if ticks is out of range");
         BeamTurnstiles x = new BeamTurnstiles();
         for (int ticks : new int[] {0, -1, -999, 1000, 1001, MIN, MAX}) {
             Due.due("pass(" + ticks + ")", x.pass(ticks), BAD_VALUE);
@@ -147,7 +147,7 @@ final class ChangesBoundsTest {
     }
 
     private static void passToTheEndOfTicks() {
-        Due.about("TOO_MANY if the ticks would be above 99999.");
+        Due.about("Promise 4", "TOO_MANY if the ticks would be above 99999.");
         int[][] rows = {{99000, 999}, {99001, 998}, {99998, 1}, {99500, 499}};
         for (int[] row : rows) {
             BeamTurnstiles x = Due.atTick(row[0]);
@@ -167,7 +167,7 @@ final class ChangesBoundsTest {
     }
 
     private static void passInOrderOfErrors() {
-        Due.about("BAD_VALUE if ticks is out of range; TOO_MANY if the ticks would be above 99999.");
+        Due.about("Promise 4", "BAD_VALUE if ticks is out of range; TOO_MANY if the ticks would be above 99999.");
         BeamTurnstiles x = Due.atTick(99999);
         for (int ticks : new int[] {0, -1, 1000, MIN, MAX}) {
             Due.due("pass(" + ticks + ")", x.pass(ticks), BAD_VALUE);
@@ -176,7 +176,7 @@ final class ChangesBoundsTest {
     }
 
     private static void passTellsBlockedGates() {
-        Due.about("Returns how many gates are blocked then");
+        Due.about("Promise 4", "Returns how many gates are blocked then");
         BeamTurnstiles x = new BeamTurnstiles();
         for (int gate = 0; gate < 6; gate++) {
             x.event(gate, gate % 3);
@@ -194,7 +194,7 @@ final class ChangesBoundsTest {
     }
 
     private static void readFaulty() {
-        Due.about("BAD_TEXT if the pad has a fault.");
+        Due.about("Promise 5", "BAD_TEXT if the pad has a fault.");
         Due.due("an empty pad", new BeamTurnstiles().read(), BAD_TEXT);
         String[] texts = {"0oioi;", "0oioi;.9;6o", "x", "0oioi;.0", "0oioi;.100", "0oioi;0", "0oioi;.", "0oioix",
             "0oioi;;0o", ";0oioi"};
@@ -210,7 +210,7 @@ final class ChangesBoundsTest {
     }
 
     private static void readTheLongestText() {
-        Due.about("Lets the events of the pad happen, one after the other, and empties the pad");
+        Due.about("Promise 5", "Lets the events of the pad happen, one after the other, and empties the pad");
         BeamTurnstiles x = new BeamTurnstiles();
         String text = "0" + "oioi".repeat(5) + "oio;.9;1" + "ioio".repeat(6) + ";5i;.50";
         Due.due("characters", text.length(), 60);
@@ -232,7 +232,7 @@ final class ChangesBoundsTest {
     }
 
     private static void readTicksToTheEnd() {
-        Due.about("ticks by which they would be above 99999 are passed over.");
+        Due.about("Promise 5", "ticks by which they would be above 99999 are passed over.");
         BeamTurnstiles x = Due.atTick(99900);
         Due.due("99 to the end", Due.readText(x, ".99"), 0);
         Due.due("ticks", x.count(3), 99999);
@@ -243,7 +243,7 @@ final class ChangesBoundsTest {
     }
 
     private static void readTicksAboveTheEnd() {
-        Due.about("ticks by which they would be above 99999 are passed over.");
+        Due.about("Promise 5", "ticks by which they would be above 99999 are passed over.");
         BeamTurnstiles x = Due.atTick(99990);
         Due.due("10", Due.readText(x, "0o;.10;0o;1o;.9;1o;.1;2oo"), 3);
         Due.due("those behind it happen", x.count(3), 99999);
@@ -260,7 +260,7 @@ final class ChangesBoundsTest {
     }
 
     private static void readTellsWhatEnds() {
-        Due.about("Returns how many passages end by them");
+        Due.about("Promise 5", "Returns how many passages end by them");
         String[] texts = {"0o", "0oi", "0oioi", "0ioio", "0oo", "0bb", "0oioi;1ioio;2oo;3bb", "0oioioioi", "0oo;0o;0o",
             ".99", "0" + "b".repeat(59), "0o;1o;2o;3o;4o;5o"};
         int[] ended = {0, 0, 1, 1, 1, 1, 4, 2, 2, 0, 29, 0};
@@ -272,7 +272,7 @@ final class ChangesBoundsTest {
     }
 
     private static void correctFrom0To999() {
-        Due.about("BAD_VALUE if people is out of range.");
+        Due.about("Promise 6", "BAD_VALUE if people is out of range.");
         BeamTurnstiles x = new BeamTurnstiles();
         for (int people : new int[] {-1, -999, 1000, 1001, MIN, MAX}) {
             Due.due("correct(" + people + ")", x.correct(people), BAD_VALUE);
@@ -290,7 +290,7 @@ final class ChangesBoundsTest {
     }
 
     private static void correctFromMore() {
-        Due.about("Returns how many were inside before");
+        Due.about("Promise 6", "Returns how many were inside before");
         BeamTurnstiles x = new BeamTurnstiles();
         x.correct(999);
         Due.readText(x, "0oioioioi");
@@ -301,7 +301,7 @@ final class ChangesBoundsTest {
     }
 
     private static void correctAlarmsNobody() {
-        Due.about("No alarm comes of this.");
+        Due.about("Promise 6", "No alarm comes of this.");
         BeamTurnstiles x = new BeamTurnstiles();
         x.set(2, 1);
         x.correct(2);
@@ -313,7 +313,7 @@ final class ChangesBoundsTest {
     }
 
     private static void clearNoGate() {
-        Due.about("NO_SUCH if there is no such gate");
+        Due.about("Promise 7", "NO_SUCH if there is no such gate");
         BeamTurnstiles x = Due.after("0o;5i");
         for (int gate : new int[] {-1, 6, MIN, MAX}) {
             Due.due("clear(" + gate + ")", x.clear(gate), NO_SUCH);
@@ -325,7 +325,7 @@ final class ChangesBoundsTest {
     }
 
     private static void clearNothing() {
-        Due.about("NOT_POSSIBLE if no passage is under way.");
+        Due.about("Promise 7", "NOT_POSSIBLE if no passage is under way.");
         BeamTurnstiles x = Due.after("0oioi;1oo;2bb");
         for (int gate = 0; gate < 6; gate++) {
             Due.due("clear(" + gate + ")", x.clear(gate), NOT_POSSIBLE);
@@ -339,7 +339,7 @@ final class ChangesBoundsTest {
     }
 
     private static void clearEachLook() {
-        Due.about("both beams are free, and the passage that is under way ends, lost");
+        Due.about("Promise 7", "both beams are free, and the passage that is under way ends, lost");
         String[] letters = {"o", "oi", "oio", "i", "io", "ioi", "b", "ob", "ib"};
         int[] looks = {1, 2, 3, 3, 2, 1, 2, 3, 1};
         for (int k = 0; k < letters.length; k++) {
@@ -355,7 +355,7 @@ final class ChangesBoundsTest {
     }
 
     private static void clearSlowOnes() {
-        Due.about("(and slow, if it is that)");
+        Due.about("Promise 7", "(and slow, if it is that)");
         for (int ticks = 29; ticks <= 31; ticks++) {
             BeamTurnstiles x = Due.after("4oi;." + ticks);
             Due.due("clear behind " + ticks, x.clear(4), 2);
@@ -366,7 +366,7 @@ final class ChangesBoundsTest {
     }
 
     private static void clearCountsNobody() {
-        Due.about("ends, lost");
+        Due.about("Promise 7", "ends, lost");
         BeamTurnstiles x = Due.after("4oioi;.2;4oio;.7");
         x.clear(4);
         Due.due("people", x.count(4), 1);

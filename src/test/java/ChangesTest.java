@@ -10,6 +10,7 @@ final class ChangesTest {
         settings();
         settingsTakeEffect();
         looks();
+        eachBeam();
         wrongEvents();
         ends();
         unsure();
@@ -17,15 +18,19 @@ final class ChangesTest {
         tails();
         peopleAndAlarms();
         ticksPass();
+        wrongTicks();
         ticksHaveAnEnd();
         reading();
         readingAtTheEndOfTicks();
         correcting();
+        wrongPeople();
         clearing();
+        clearTellsTheLook();
         Due.end("ChangesTest");
     }
 
     private static void newObject() {
+        Due.about("Promise 1", "Creates free gates, with nobody inside, at the tick 0.");
         BeamTurnstiles x = new BeamTurnstiles();
         int[] counts = {30, 3, 20, 0, 0, 0, 0, 0, 0, 0, 0, 0, 0, 0, 0, 0, 0, 0};
         for (int what = 0; what < counts.length; what++) {
@@ -43,6 +48,9 @@ final class ChangesTest {
     }
 
     private static void settings() {
+        Due.about("Settings",
+            "(In parentheses: range; first value.) SLOW (1 to 200; 30), TAIL (0 to 50; 3): ticks. LIMIT (1 to "
+            + "500; 20): people.");
         BeamTurnstiles x = new BeamTurnstiles();
         int[][] ranges = {{1, 200, 30}, {0, 50, 3}, {1, 500, 20}};
         for (int setting = 0; setting < 3; setting++) {
@@ -64,6 +72,7 @@ final class ChangesTest {
     }
 
     private static void settingsTakeEffect() {
+        Due.about("Promise 2", "Changes a setting.");
         BeamTurnstiles x = Due.after("0o;.10;0ioi");
         Due.due("not slow by 30", x.gate(0, 9), 0);
         x.set(0, 10);
@@ -78,6 +87,7 @@ final class ChangesTest {
     }
 
     private static void looks() {
+        Due.about("Promise 3", "Returns the look of the gate then");
         int[][] then = {{1, 3, 2}, {0, 2, 3}, {3, 1, 0}, {2, 0, 1}};
         String[] to = {"", "2o", "2oi", "2i"};
         for (int look = 0; look < 4; look++) {
@@ -91,7 +101,23 @@ final class ChangesTest {
         }
     }
 
+    private static void eachBeam() {
+        Due.about("Promise 3", "An event: a beam changes, or both at once.");
+        BeamTurnstiles x = new BeamTurnstiles();
+        for (int gate = 0; gate < 6; gate++) {
+            Due.due("one beam", x.event(gate, gate % 2), gate % 2 == 0 ? 1 : 3);
+            Due.due("both at once", x.event(gate, 2), gate % 2 == 0 ? 3 : 1);
+            Due.due("the gates so far", x.count(15), (2 << gate) - 1);
+        }
+        Due.due("no tick goes by", x.count(3), 0);
+        Due.about("Promise 3", "beam: 0 the outer one, 1 the inner one, 2 both");
+        Due.due("0: the outer one alone is cut", new BeamTurnstiles().event(3, 0), 1);
+        Due.due("1: the inner one alone is cut", new BeamTurnstiles().event(3, 1), 3);
+        Due.due("2: both are cut", new BeamTurnstiles().event(3, 2), 2);
+    }
+
     private static void wrongEvents() {
+        Due.about("Promise 3", "NO_SUCH if there is no such gate; BAD_VALUE if beam is out of range.");
         BeamTurnstiles x = new BeamTurnstiles();
         int[] noGates = {-1, 6, Integer.MIN_VALUE, Integer.MAX_VALUE};
         for (int gate : noGates) {
@@ -110,6 +136,9 @@ final class ChangesTest {
 
     /** Row by row: events of one gate, and the passages in, out, turned back and lost by them. */
     private static void ends() {
+        Due.about("Passages",
+            "When a passage ends, it is: lost, if it is unsure; otherwise in, if its place is 4; out, if it is "
+            + "-4; turned back, if it is 0.");
         ended("oioi", 1, 0, 0, 0);
         ended("ioio", 0, 1, 0, 0);
         ended("oo", 0, 0, 1, 0);
@@ -136,6 +165,8 @@ final class ChangesTest {
     }
 
     private static void unsure() {
+        Due.about("Passages",
+            "If both change at once, the passage is unsure from then on (also one that begins by that)");
         ended("bb", 0, 0, 0, 1);
         ended("boi", 0, 0, 0, 1);
         ended("obi", 0, 0, 0, 1);
@@ -151,6 +182,7 @@ final class ChangesTest {
     }
 
     private static void slowOnes() {
+        Due.about("Passages", "It is slow if it takes SLOW ticks or more.");
         String[] ways = {"0o;.29;0ioi", "0i;.29;0oio", "0o;.29;0o", "0b;.29;0b"};
         String[] slow = {"0o;.30;0ioi", "0i;.30;0oio", "0o;.30;0o", "0b;.30;0b"};
         for (int k = 0; k < 4; k++) {
@@ -160,6 +192,9 @@ final class ChangesTest {
     }
 
     private static void tails() {
+        Due.about("Passages",
+            "A passage, in or out, is a tail, if the latest passage before it at this gate that was in or out "
+            + "was the same way as it, and its beginning less the end of that is at most TAIL.");
         tailsBy("0oioi;.3;0oioi", 1);
         tailsBy("0oioi;.4;0oioi", 0);
         tailsBy("0oioi;0oioi;0oioi", 2);
@@ -188,6 +223,9 @@ final class ChangesTest {
     }
 
     private static void peopleAndAlarms() {
+        Due.about("Passages",
+            "A passage that is in makes the people inside 1 more; one that is out 1 less, but never below 0: "
+            + "then it is odd as well.");
         BeamTurnstiles x = new BeamTurnstiles();
         x.set(2, 2);
         int[] alarms = {0, 0, 1, 2};
@@ -212,13 +250,8 @@ final class ChangesTest {
     }
 
     private static void ticksPass() {
+        Due.about("Promise 4", "Lets ticks go by.");
         BeamTurnstiles x = new BeamTurnstiles();
-        int[] wrong = {0, -1, 1000, Integer.MIN_VALUE, Integer.MAX_VALUE};
-        for (int ticks : wrong) {
-            Due.due("pass " + ticks, x.pass(ticks), BAD_VALUE);
-        }
-        Due.due("no ticks", x.count(3), 0);
-        Due.due("nothing recorded", x.count(17), 0);
         x.event(0, 0);
         x.event(5, 2);
         Due.due("pass 29", x.pass(29), 0);
@@ -231,7 +264,25 @@ final class ChangesTest {
         Due.due("two yet", x.pass(1), 2);
     }
 
+    private static void wrongTicks() {
+        Due.about("Promise 4", "ticks: 1 to 999");
+        BeamTurnstiles x = new BeamTurnstiles();
+        int[] wrong = {0, -1, 1000, Integer.MIN_VALUE, Integer.MAX_VALUE};
+        for (int ticks : wrong) {
+            Due.due("pass " + ticks, x.pass(ticks), BAD_VALUE);
+        }
+        Due.due("no ticks", x.count(3), 0);
+        Due.due("nothing recorded", x.count(17), 0);
+        int sum = 0;
+        for (int ticks : new int[] {1, 2, 500, 998, 999}) {
+            sum += ticks;
+            Due.due("pass " + ticks, x.pass(ticks), 0);
+            Due.due("ticks", x.count(3), sum);
+        }
+    }
+
     private static void ticksHaveAnEnd() {
+        Due.about("Promise 4", "TOO_MANY if the ticks would be above 99999.");
         BeamTurnstiles x = Due.atTick(99990);
         Due.due("pass 10", x.pass(10), TOO_MANY);
         Due.due("pass 1000 first", x.pass(1000), BAD_VALUE);
@@ -242,6 +293,7 @@ final class ChangesTest {
     }
 
     private static void reading() {
+        Due.about("Promise 5", "Lets the events of the pad happen, one after the other, and empties the pad");
         BeamTurnstiles x = new BeamTurnstiles();
         Due.due("empty", x.read(), BAD_TEXT);
         Due.due("ticks only", Due.readText(x, ".1;.99"), 0);
@@ -261,6 +313,7 @@ final class ChangesTest {
     }
 
     private static void readingAtTheEndOfTicks() {
+        Due.about("Promise 5", "ticks by which they would be above 99999 are passed over.");
         BeamTurnstiles x = Due.atTick(99990);
         Due.due("read", Due.readText(x, "0o;.10;0o;.4;1o;.6;.5;1o"), 2);
         Due.due("too many ticks are passed over, fewer are not", x.count(3), 99999);
@@ -271,12 +324,8 @@ final class ChangesTest {
     }
 
     private static void correcting() {
+        Due.about("Promise 6", "Counts people by hand: the people inside become as many.");
         BeamTurnstiles x = new BeamTurnstiles();
-        int[] wrong = {-1, 1000, Integer.MIN_VALUE, Integer.MAX_VALUE};
-        for (int people : wrong) {
-            Due.due("correct " + people, x.correct(people), BAD_VALUE);
-        }
-        Due.due("nothing recorded", x.count(17), 0);
         Due.due("correct 999", x.correct(999), 0);
         Due.due("no alarm", x.count(6), 0);
         Due.due("correct 0", x.correct(0), 999);
@@ -291,7 +340,39 @@ final class ChangesTest {
         Due.due("an alarm", x.count(6), 1);
     }
 
+    private static void wrongPeople() {
+        Due.about("Promise 6", "people: 0 to 999");
+        BeamTurnstiles x = new BeamTurnstiles();
+        int[] wrong = {-1, 1000, Integer.MIN_VALUE, Integer.MAX_VALUE};
+        for (int people : wrong) {
+            Due.due("correct " + people, x.correct(people), BAD_VALUE);
+        }
+        Due.due("nobody", x.count(4), 0);
+        Due.due("nothing recorded", x.count(17), 0);
+        for (int people = 0; people < 1000; people++) {
+            BeamTurnstiles y = new BeamTurnstiles();
+            Due.due("correct " + people, y.correct(people), 0);
+            Due.due("people", y.count(4), people);
+        }
+    }
+
+    private static void clearTellsTheLook() {
+        Due.about("Promise 7", "Returns its look before");
+        String[] letters = {"o", "i", "b", "oi", "io", "ob", "ib", "oio", "ioi"};
+        int[] looks = {1, 3, 2, 2, 2, 3, 1, 3, 1};
+        for (int k = 0; k < letters.length; k++) {
+            for (int gate = 0; gate < 6; gate++) {
+                BeamTurnstiles x = new BeamTurnstiles();
+                Due.events(x, gate, letters[k]);
+                Due.due("clear(" + gate + ") behind " + letters[k], x.clear(gate), looks[k]);
+            }
+        }
+    }
+
     private static void clearing() {
+        Due.about("Promise 7",
+            "Clears a gate: both beams are free, and the passage that is under way ends, lost (and slow, if it "
+            + "is that).");
         BeamTurnstiles x = new BeamTurnstiles();
         int[] noGates = {-1, 6, Integer.MIN_VALUE, Integer.MAX_VALUE};
         for (int gate : noGates) {

@@ -1,30 +1,42 @@
+import java.io.IOException;
+import java.io.UncheckedIOException;
+import java.nio.file.Files;
+import java.nio.file.Path;
+import java.nio.file.StandardOpenOption;
+import java.util.LinkedHashSet;
+import java.util.Set;
+
 /** What the tests share: comparing an answer with the one that is due, and putting texts on the pad. */
 final class Due {
+    private static final Set<String> QUOTED = new LinkedHashSet<>();
     private static int wrong = 0;
     private static int compared = 0;
+    private static String quotation = "";
     private static String sentence = "";
 
     private Due() {
     }
 
-    /** Names the sentence of the document, in its own words, that the answers from here on are about. */
-    static void about(String words) {
-        sentence = "\"" + words + "\": ";
+    /** Names the sentence of the document, by its head and in its own words, that the answers from here on are about. */
+    static void about(String head, String words) {
+        quotation = head + "\t" + words;
+        sentence = head + ", \"" + words + "\": ";
     }
 
     static void due(String call, long got, long want) {
-        compared++;
-        if (got != want) {
-            wrong++;
-            System.out.println(sentence + call + " answered " + got + ", due is " + want);
-        }
+        compare(call + " answered " + got + ", due is " + want, got == want);
     }
 
     static void same(String what, String got, String want) {
+        compare(what + " is " + got + ", due is " + want, got.equals(want));
+    }
+
+    private static void compare(String told, boolean asDue) {
         compared++;
-        if (!got.equals(want)) {
+        QUOTED.add(quotation);
+        if (!asDue) {
             wrong++;
-            System.out.println(sentence + what + " is " + got + ", due is " + want);
+            System.out.println(sentence + told);
         }
     }
 
@@ -33,6 +45,21 @@ final class Due {
         System.out.println(test + ": " + compared + " answers, " + wrong + " wrong");
         if (wrong != 0 || compared == 0) {
             System.exit(1);
+        }
+        writeQuotations();
+    }
+
+    /** For DocumentTest, which looks whether any word of the document is left without a test. */
+    private static void writeQuotations() {
+        String file = System.getProperty("quoted");
+        QUOTED.remove("");
+        if (file == null) {
+            return;
+        }
+        try {
+            Files.write(Path.of(file), QUOTED, StandardOpenOption.CREATE, StandardOpenOption.APPEND);
+        } catch (IOException e) {
+            throw new UncheckedIOException(e);
         }
     }
 

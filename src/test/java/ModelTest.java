@@ -2,8 +2,11 @@ import java.util.Random;
 
 /** Runs of random calls, the same in every run of the test: the class has to answer as the model does. */
 final class ModelTest {
-    private static final int RUNS = 1500;
+    private static final int RUNS = 4000;
+    // Nothing is promised about an object after its 512th call.
     private static final int CALLS = 512;
+    private static final int CALLS_OF_EVERYTHING = 105;
+    private static final int MOST_CALLS_AT_ONCE = 4;
 
     private final Random random;
     private final BeamTurnstiles x = new BeamTurnstiles();
@@ -11,6 +14,7 @@ final class ModelTest {
     private final String run;
     // Most events are at one gate, so that many passages come to their end.
     private int gate = 0;
+    private int calls = 0;
 
     private ModelTest(long seed) {
         random = new Random(seed);
@@ -19,26 +23,33 @@ final class ModelTest {
 
     public static void main(String[] args) {
         for (int seed = 0; seed < RUNS; seed++) {
-            new ModelTest(seed).go(seed % 10 == 0);
+            new ModelTest(seed).go(seed % 10 == 0, 1 + seed % 3);
         }
         Due.end("ModelTest");
     }
 
-    private void go(boolean nearTheEnd) {
+    private void go(boolean nearTheEnd, int looks) {
         if (nearTheEnd) {
             for (int k = 0; k < 100; k++) {
                 same("pass(999)", x.pass(999), model.pass(999));
             }
         }
-        for (int call = 0; call < CALLS; call++) {
+        int start = calls;
+        for (int look = 1; look <= looks; look++) {
+            goOn(start + (CALLS - start) * look / looks - CALLS_OF_EVERYTHING);
+            everything();
+        }
+        Due.due(run + "calls, at most 512", Math.max(calls, CALLS), CALLS);
+    }
+
+    private void goOn(int mostCalls) {
+        while (calls + MOST_CALLS_AT_ONCE <= mostCalls) {
             oneCall(random.nextInt(44));
-            if (call % 64 == 63) {
-                everything();
-            }
         }
     }
 
     private void same(String call, int got, int want) {
+        calls++;
         Due.due(run + call, got, want);
     }
 
@@ -134,7 +145,7 @@ final class ModelTest {
             same("ifRead(" + what + ")", x.ifRead(what), model.ifRead(what));
         } else {
             same("read()", x.read(), model.read());
-            if (x.count(16) > 20) {
+            if (model.count(16) > 20) {
                 same("wipe()", x.wipe(), model.wipe());
             }
         }
@@ -143,7 +154,7 @@ final class ModelTest {
     private void putText() {
         String[] events = {"oioi", "ioio", "oi", "io", "oo", "bb", "oib", "iioo", "o", "i", "b"};
         String event = random.nextInt(4) == 0 ? "." + near(1, 99) : gate + events[random.nextInt(events.length)];
-        if (x.count(16) > 0) {
+        if (model.count(16) > 0) {
             event = ";" + event;
         }
         if (random.nextInt(30) == 0) {

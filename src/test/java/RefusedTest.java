@@ -1,5 +1,8 @@
 import java.util.ArrayList;
 import java.util.List;
+import java.util.Map;
+import java.util.TreeMap;
+import java.util.TreeSet;
 import java.util.function.Function;
 import java.util.function.Supplier;
 import java.util.function.ToLongFunction;
@@ -13,10 +16,26 @@ final class RefusedTest {
     private static final int[] BESIDE = {-1, 0, 1, 2, 3, 5, 6, 12, 13, 17, 18, 50, 51, 200, 201, 500, 501, 999, 1000,
         MIN, MAX};
 
-    private record Call(boolean tells, String name, ToLongFunction<BeamTurnstiles> made) {
+    // What the document says of the calls that only tell something; nothing for the others.
+    private static final String[] ACTS = {};
+    private static final String[] TELLS = {"Texts",
+        "Ahead of the calls gate, count, mean, busiest the interface says: ---- what there is; nothing changes."};
+    private static final String[] WHAT_IF = {"Texts",
+        "Ahead of the calls ifRead, eventsTo, untilBlocked the interface says: ---- what if; nothing changes."};
+    private static final String[] FAULT = {"Promise 17", "Returns the fault of the pad"};
+
+    private record Call(String[] ahead, String name, ToLongFunction<BeamTurnstiles> made) {
         boolean isRefused(BeamTurnstiles x) {
             long answer = made.applyAsLong(x);
             return answer < 0 && answer != BeamTurnstiles.NONE;
+        }
+
+        boolean tells() {
+            return ahead.length != 0;
+        }
+
+        String method() {
+            return name.substring(0, name.indexOf('('));
         }
     }
 
@@ -24,13 +43,33 @@ final class RefusedTest {
     }
 
     public static void main(String[] args) {
-        Due.about("A call that returns an error changes nothing.");
+        errorsByName();
         int refused = 0;
         refused += refusedOn("new", BeamTurnstiles::new);
         refused += refusedOn("busy", Whole::busy);
         refused += refusedOn("full", Whole::full);
         Due.due("more than 900 calls are refused", refused > 900 ? 1 : 0, 1);
         Due.end("RefusedTest");
+    }
+
+    /** Every code below 0 that a method answers, NONE among them: those that its promise names, and no other. */
+    private static void errorsByName() {
+        Due.about("CONVENTIONS", "A method that fails returns one of the error codes NO_SUCH (-1), BAD_VALUE (-2), "
+            + "BAD_TEXT (-3), TOO_MANY (-4) and NOT_POSSIBLE (-5)");
+        Map<String, TreeSet<Long>> codes = new TreeMap<>();
+        for (Call call : calls()) {
+            TreeSet<Long> own = codes.computeIfAbsent(call.method(), method -> new TreeSet<>());
+            for (BeamTurnstiles x : List.of(new BeamTurnstiles(), Whole.busy(), Whole.full())) {
+                long answer = call.made.applyAsLong(x);
+                if (answer < 0) {
+                    own.add(answer);
+                }
+            }
+        }
+        Due.same("codes by method", codes.toString(), "{busiest=[-6], clear=[-5, -1], correct=[-2], count=[-2], "
+            + "event=[-2, -1], eventsTo=[-6, -5, -2, -1], fault=[-6], gate=[-6, -2, -1], ifRead=[-3, -2], mean=[-6, -1], "
+            + "pass=[-4, -2], put=[-4, -2], read=[-3], restore=[-5, -2], save=[-2], set=[-2], undo=[-5], "
+            + "untilBlocked=[-6], wipe=[]}");
     }
 
     private static int refusedOn(String name, Supplier<BeamTurnstiles> makes) {
@@ -42,7 +81,12 @@ final class RefusedTest {
         for (Call call : calls()) {
             boolean isRefused = call.isRefused(makes.get());
             refused += isRefused ? 1 : 0;
-            if (isRefused || call.tells) {
+            if (isRefused) {
+                Due.about("CONVENTIONS", "A call that returns an error changes nothing.");
+            } else if (call.tells()) {
+                Due.about(call.ahead[0], call.ahead[1]);
+            }
+            if (isRefused || call.tells()) {
                 changesNothing(name, call, makes, due);
             }
         }
@@ -84,34 +128,35 @@ final class RefusedTest {
     private static List<Call> calls() {
         List<Call> calls = new ArrayList<>();
         for (int a : BESIDE) {
-            calls.add(new Call(false, "pass(" + a + ")", x -> x.pass(a)));
-            calls.add(new Call(false, "correct(" + a + ")", x -> x.correct(a)));
-            calls.add(new Call(false, "clear(" + a + ")", x -> x.clear(a)));
-            calls.add(new Call(true, "count(" + a + ")", x -> x.count(a)));
-            calls.add(new Call(true, "mean(" + a + ")", x -> x.mean(a)));
-            calls.add(new Call(true, "ifRead(" + a + ")", x -> x.ifRead(a)));
-            calls.add(new Call(false, "save(" + a + ")", x -> x.save(a)));
-            calls.add(new Call(false, "restore(" + a + ")", x -> x.restore(a)));
+            calls.add(new Call(ACTS, "pass(" + a + ")", x -> x.pass(a)));
+            calls.add(new Call(ACTS, "correct(" + a + ")", x -> x.correct(a)));
+            calls.add(new Call(ACTS, "clear(" + a + ")", x -> x.clear(a)));
+            calls.add(new Call(TELLS, "count(" + a + ")", x -> x.count(a)));
+            calls.add(new Call(TELLS, "mean(" + a + ")", x -> x.mean(a)));
+            calls.add(new Call(WHAT_IF, "ifRead(" + a + ")", x -> x.ifRead(a)));
+            calls.add(new Call(ACTS, "save(" + a + ")", x -> x.save(a)));
+            calls.add(new Call(ACTS, "restore(" + a + ")", x -> x.restore(a)));
             addPairs(calls, a);
         }
         for (long a : new long[] {0, 32, 33, 126, 127, 0x6F006F, Due.packed("oooooooo"), Due.packed("ooooooo "), -1,
             Long.MIN_VALUE, Long.MAX_VALUE}) {
-            calls.add(new Call(false, "put(" + a + ")", x -> x.put(a)));
+            calls.add(new Call(ACTS, "put(" + a + ")", x -> x.put(a)));
         }
-        calls.add(new Call(false, "read()", BeamTurnstiles::read));
-        calls.add(new Call(false, "undo()", BeamTurnstiles::undo));
-        calls.add(new Call(true, "busiest()", BeamTurnstiles::busiest));
-        calls.add(new Call(true, "untilBlocked()", BeamTurnstiles::untilBlocked));
-        calls.add(new Call(true, "fault()", BeamTurnstiles::fault));
+        calls.add(new Call(ACTS, "read()", BeamTurnstiles::read));
+        calls.add(new Call(ACTS, "undo()", BeamTurnstiles::undo));
+        calls.add(new Call(ACTS, "wipe()", BeamTurnstiles::wipe));
+        calls.add(new Call(TELLS, "busiest()", BeamTurnstiles::busiest));
+        calls.add(new Call(WHAT_IF, "untilBlocked()", BeamTurnstiles::untilBlocked));
+        calls.add(new Call(FAULT, "fault()", BeamTurnstiles::fault));
         return calls;
     }
 
     private static void addPairs(List<Call> calls, int a) {
         for (int b : BESIDE) {
-            calls.add(new Call(false, "set(" + a + ", " + b + ")", x -> x.set(a, b)));
-            calls.add(new Call(false, "event(" + a + ", " + b + ")", x -> x.event(a, b)));
-            calls.add(new Call(true, "gate(" + a + ", " + b + ")", x -> x.gate(a, b)));
-            calls.add(new Call(true, "eventsTo(" + a + ", " + b + ")", x -> x.eventsTo(a, b)));
+            calls.add(new Call(ACTS, "set(" + a + ", " + b + ")", x -> x.set(a, b)));
+            calls.add(new Call(ACTS, "event(" + a + ", " + b + ")", x -> x.event(a, b)));
+            calls.add(new Call(TELLS, "gate(" + a + ", " + b + ")", x -> x.gate(a, b)));
+            calls.add(new Call(WHAT_IF, "eventsTo(" + a + ", " + b + ")", x -> x.eventsTo(a, b)));
         }
     }
 }

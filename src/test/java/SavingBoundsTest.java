@@ -33,7 +33,7 @@ final class SavingBoundsTest {
     }
 
     private static void nothingToUndo() {
-        Due.about("Returns how many changes can be undone then; NOT_POSSIBLE if there is none.");
+        Due.about("Promise 18", "Returns how many changes can be undone then; NOT_POSSIBLE if there is none.");
         BeamTurnstiles x = new BeamTurnstiles();
         Due.due("a new object", x.undo(), NOT_POSSIBLE);
         Due.due("changes", x.count(17), 0);
@@ -46,7 +46,7 @@ final class SavingBoundsTest {
     }
 
     private static void sixToUndo() {
-        Due.about("A history of at most 6 states is kept");
+        Due.about("Promise 18", "A history of at most 6 states is kept");
         for (int changes = 1; changes <= 20; changes++) {
             BeamTurnstiles x = new BeamTurnstiles();
             for (int k = 0; k < changes; k++) {
@@ -64,7 +64,7 @@ final class SavingBoundsTest {
     }
 
     private static void oldestIsDropped() {
-        Due.about("when one more is recorded, the oldest one is dropped.");
+        Due.about("Promise 18", "when one more is recorded, the oldest one is dropped.");
         BeamTurnstiles x = new BeamTurnstiles();
         for (int people = 1; people <= 7; people++) {
             x.correct(people);
@@ -79,8 +79,9 @@ final class SavingBoundsTest {
     }
 
     private static void undoneAndFilledAgain() {
-        Due.about("A history of at most 6 states is kept: each method that is a change, and returns no error, records the "
-            + "state before it");
+        Due.about("Promise 18",
+            "A history of at most 6 states is kept: each method that is a change, and returns no error, "
+            + "records the state before it");
         for (int undone = 1; undone <= 6; undone++) {
             for (int more = 1; more <= 8; more++) {
                 BeamTurnstiles x = new BeamTurnstiles();
@@ -108,7 +109,7 @@ final class SavingBoundsTest {
     }
 
     private static void undoIsNoChange() {
-        Due.about("Undoes the latest change");
+        Due.about("Promise 18", "Undoes the latest change");
         BeamTurnstiles x = new BeamTurnstiles();
         x.correct(1);
         x.correct(2);
@@ -120,15 +121,23 @@ final class SavingBoundsTest {
     }
 
     private static void eachChangeIsRecorded() {
-        Due.about("each method that is a change, and returns no error, records the state before it");
+        Due.about("Promise 18", "each method that is a change, and returns no error, records the state before it");
         recordedOnce("set", x -> x.set(0, 1));
+        Due.about("Promise 2", "This is a change.");
+        recordedOnce("set", x -> x.set(2, 1));
+        Due.about("Promise 3", "This is a change.");
         recordedOnce("event", x -> x.event(1, 0));
         recordedOnce("event of both beams", x -> x.event(1, 2));
+        Due.about("Promise 4", "This is a change.");
         recordedOnce("pass", x -> x.pass(999));
-        recordedOnce("correct", x -> x.correct(9));
-        recordedOnce("clear", x -> x.clear(0));
-        recordedOnce("restore", x -> x.restore(1));
+        Due.about("Promise 5", "This is a change.");
         recordedOnce("read", x -> Due.readText(x, "0ioi;.99;1oioi;.1;2b;3bb"));
+        Due.about("Promise 6", "This is a change.");
+        recordedOnce("correct", x -> x.correct(9));
+        Due.about("Promise 7", "This is a change.");
+        recordedOnce("clear", x -> x.clear(0));
+        Due.about("Promise 20", "This is a change.");
+        recordedOnce("restore", x -> x.restore(1));
     }
 
     private static void recordedOnce(String call, Consumer<BeamTurnstiles> change) {
@@ -149,7 +158,7 @@ final class SavingBoundsTest {
     }
 
     private static void nothingDifferentIsRecorded() {
-        Due.about("(also if nothing is different then)");
+        Due.about("Promise 18", "(also if nothing is different then)");
         BeamTurnstiles x = new BeamTurnstiles();
         x.save(0);
         Due.due("set", x.set(0, 30), 30);
@@ -182,7 +191,7 @@ final class SavingBoundsTest {
     }
 
     private static void tellingIsNotRecorded() {
-        Due.about("each method that is a change");
+        Due.about("Promise 18", "each method that is a change");
         BeamTurnstiles x = Due.after("0oi;1oioi");
         Due.putText(x, "0oi");
         Whole.state(x);
@@ -198,7 +207,7 @@ final class SavingBoundsTest {
     }
 
     private static void undoLeavesThePad() {
-        Due.about("everything except the pad, the slots and the history is as it was before it.");
+        Due.about("Promise 18", "everything except the pad, the slots and the history is as it was before it.");
         BeamTurnstiles x = new BeamTurnstiles();
         Due.putText(x, "0o");
         x.pass(1);
@@ -213,7 +222,7 @@ final class SavingBoundsTest {
     }
 
     private static void undoLeavesTheSlots() {
-        Due.about("everything except the pad, the slots and the history is as it was before it.");
+        Due.about("Promise 18", "everything except the pad, the slots and the history is as it was before it.");
         BeamTurnstiles x = new BeamTurnstiles();
         x.correct(4);
         x.save(0);
@@ -230,7 +239,9 @@ final class SavingBoundsTest {
     }
 
     private static void undoBringsAllBack() {
-        Due.about("Undoes the latest change: everything except the pad, the slots and the history is as it was before it.");
+        Due.about("Promise 18",
+            "Undoes the latest change: everything except the pad, the slots and the history is as it was "
+            + "before it.");
         BeamTurnstiles x = Whole.busy();
         String state = Whole.state(x);
         x.wipe();
@@ -248,7 +259,7 @@ final class SavingBoundsTest {
     }
 
     private static void saveAtItsBounds() {
-        Due.about("Returns how many people are inside; BAD_VALUE if there is no such slot.");
+        Due.about("Promise 19", "Returns how many people are inside; BAD_VALUE if there is no such slot.");
         BeamTurnstiles x = Due.after("0oioi");
         for (int slot : new int[] {-1, 2, 3, MIN, MAX}) {
             Due.due("save(" + slot + ")", x.save(slot), BAD_VALUE);
@@ -263,7 +274,7 @@ final class SavingBoundsTest {
     }
 
     private static void saveOverwrites() {
-        Due.about("in a slot, and overwrites what was saved there.");
+        Due.about("Promise 19", "in a slot, and overwrites what was saved there.");
         BeamTurnstiles x = new BeamTurnstiles();
         for (int people = 0; people < 4; people++) {
             x.correct(people);
@@ -276,7 +287,7 @@ final class SavingBoundsTest {
     }
 
     private static void saveTakesAllButThePad() {
-        Due.about("Saves everything except the pad, the history and the slots");
+        Due.about("Promise 19", "Saves everything except the pad, the history and the slots");
         BeamTurnstiles x = Whole.busy();
         String state = Whole.state(x);
         int people = x.count(4);
@@ -294,7 +305,7 @@ final class SavingBoundsTest {
     }
 
     private static void restoreErrors() {
-        Due.about("BAD_VALUE if there is no such slot; NOT_POSSIBLE if nothing was saved in it.");
+        Due.about("Promise 20", "BAD_VALUE if there is no such slot; NOT_POSSIBLE if nothing was saved in it.");
         BeamTurnstiles x = Due.after("0oioi");
         for (int slot : new int[] {-1, 2, 3, MIN, MAX}) {
             Due.due("restore(" + slot + ")", x.restore(slot), BAD_VALUE);
@@ -312,7 +323,7 @@ final class SavingBoundsTest {
     }
 
     private static void restoreIsKept() {
-        Due.about("Restores what was saved last in a slot, which keeps it.");
+        Due.about("Promise 20", "Restores what was saved last in a slot, which keeps it.");
         BeamTurnstiles x = Due.after("2oioioioi;0oio;.5");
         x.save(0);
         String state = Whole.state(x);
@@ -328,7 +339,7 @@ final class SavingBoundsTest {
     }
 
     private static void restoreIsAChange() {
-        Due.about("which keeps it. This is a change.");
+        Due.about("Promise 20", "which keeps it. This is a change.");
         BeamTurnstiles x = new BeamTurnstiles();
         x.save(1);
         Due.readText(x, "0oioi;.9;1o");
@@ -340,7 +351,7 @@ final class SavingBoundsTest {
     }
 
     private static void restoreLeavesPadAndHistory() {
-        Due.about("Saves everything except the pad, the history and the slots");
+        Due.about("Promise 19", "Saves everything except the pad, the history and the slots");
         BeamTurnstiles x = new BeamTurnstiles();
         Due.putText(x, "1o");
         x.save(0);

@@ -14,6 +14,8 @@ final class SavingTest {
         saving();
         savedIsEverything();
         restoring();
+        restoringTellsPeople();
+        bothSlots();
         wrongSlots();
         slotsAndHistory();
         Due.end("SavingTest");
@@ -32,6 +34,9 @@ final class SavingTest {
     }
 
     private static void undoingEachChange() {
+        Due.about("Promise 18",
+            "Undoes the latest change: everything except the pad, the slots and the history is as it was "
+            + "before it.");
         for (int which = 0; which < 7; which++) {
             BeamTurnstiles x = Due.after("0oi;1oioi;.8");
             Due.due("save", x.save(0), 1);
@@ -48,22 +53,38 @@ final class SavingTest {
     }
 
     private static void undoingEverything() {
+        Due.about("Promise 18",
+            "Undoes the latest change: everything except the pad, the slots and the history is as it was "
+            + "before it.");
+        for (int undone = 0; undone <= 6; undone++) {
+            BeamTurnstiles x = changed(6);
+            for (int k = 1; k <= undone; k++) {
+                Due.due("undo", x.undo(), 6 - k);
+            }
+            Due.same("state, " + undone + " undone", Whole.state(x), Whole.state(changed(6 - undone)));
+        }
+        BeamTurnstiles y = changed(6);
+        for (int k = 5; k >= 0; k--) {
+            Due.due("undo", y.undo(), k);
+        }
+        Due.due("no more", y.undo(), NOT_POSSIBLE);
+        Due.same("nothing changed by that", Whole.state(y), Whole.state(changed(0)));
+    }
+
+    private static BeamTurnstiles changed(int changes) {
         BeamTurnstiles x = new BeamTurnstiles();
         x.set(2, 1);
-        String[] states = new String[6];
-        for (int which = 0; which < 6; which++) {
-            states[which] = Whole.state(x);
+        for (int which = 0; which < changes; which++) {
             change(x, which);
         }
-        for (int which = 5; which >= 0; which--) {
-            Due.due("undo", x.undo(), which);
-            Due.same("state " + which, Whole.state(x), states[which]);
-        }
-        Due.due("no more", x.undo(), NOT_POSSIBLE);
-        Due.same("nothing changed by that", Whole.state(x), states[0]);
+        return x;
     }
 
     private static void sixStates() {
+        Due.about("Promise 18",
+            "A history of at most 6 states is kept: each method that is a change, and returns no error, "
+            + "records the state before it (also if nothing is different then); when one more is recorded, the "
+            + "oldest one is dropped.");
         BeamTurnstiles x = new BeamTurnstiles();
         for (int k = 1; k <= 20; k++) {
             x.pass(1);
@@ -84,6 +105,9 @@ final class SavingTest {
     }
 
     private static void errorsAndTellingRecordNothing() {
+        Due.about("Promise 18",
+            "each method that is a change, and returns no error, records the state before it (also if nothing "
+            + "is different then)");
         BeamTurnstiles x = new BeamTurnstiles();
         x.pass(1);
         x.set(0, 0);
@@ -109,6 +133,7 @@ final class SavingTest {
     }
 
     private static void padStays() {
+        Due.about("Promise 18", "everything except the pad, the slots and the history is as it was before it.");
         BeamTurnstiles x = new BeamTurnstiles();
         x.pass(5);
         x.save(0);
@@ -124,6 +149,9 @@ final class SavingTest {
     }
 
     private static void saving() {
+        Due.about("Promise 19",
+            "Saves everything except the pad, the history and the slots in a slot, and overwrites what was "
+            + "saved there.");
         BeamTurnstiles x = new BeamTurnstiles();
         Due.due("save 0", x.save(0), 0);
         x.correct(12);
@@ -142,6 +170,7 @@ final class SavingTest {
     }
 
     private static void savedIsEverything() {
+        Due.about("Promise 19", "Saves everything except the pad, the history and the slots in a slot");
         BeamTurnstiles x = Due.after("0o;.40;1oioi;1ioio;1ioio;2oo;3bb;4oi;5b;0ioi;.3");
         x.set(0, 11);
         x.set(1, 12);
@@ -168,6 +197,7 @@ final class SavingTest {
     }
 
     private static void restoring() {
+        Due.about("Promise 20", "Restores what was saved last in a slot, which keeps it.");
         BeamTurnstiles x = Due.after("0oio");
         x.save(0);
         x.event(0, 1);
@@ -184,7 +214,42 @@ final class SavingTest {
         Due.due("and the other", x.gate(1, 0), 1);
     }
 
+    private static void restoringTellsPeople() {
+        Due.about("Promise 20", "Returns how many people are inside then");
+        BeamTurnstiles x = new BeamTurnstiles();
+        for (int people : new int[] {0, 1, 20, 999}) {
+            x.correct(people);
+            x.save(1);
+            x.correct(500);
+            Due.due("restore", x.restore(1), people);
+            Due.due("people", x.count(4), people);
+        }
+        Due.readText(x, "0oioi");
+        x.save(1);
+        x.correct(500);
+        Due.due("restore", x.restore(1), 1000);
+    }
+
+    private static void bothSlots() {
+        for (String head : new String[] {"Promise 19", "Promise 20"}) {
+            Due.about(head, "slot: 0 or 1");
+            BeamTurnstiles x = new BeamTurnstiles();
+            for (int slot = 0; slot < 2; slot++) {
+                x.correct(10 + slot);
+                Due.due("save(" + slot + ")", x.save(slot), 10 + slot);
+            }
+            for (int slot = 0; slot < 2; slot++) {
+                Due.due("restore(" + slot + ")", x.restore(slot), 10 + slot);
+            }
+            for (int slot : new int[] {-1, 2}) {
+                Due.due("save(" + slot + ")", x.save(slot), BAD_VALUE);
+                Due.due("restore(" + slot + ")", x.restore(slot), BAD_VALUE);
+            }
+        }
+    }
+
     private static void wrongSlots() {
+        Due.about("Promise 20", "BAD_VALUE if there is no such slot; NOT_POSSIBLE if nothing was saved in it.");
         BeamTurnstiles x = new BeamTurnstiles();
         int[] wrong = {-1, 2, Integer.MIN_VALUE, Integer.MAX_VALUE};
         for (int slot : wrong) {
@@ -198,6 +263,7 @@ final class SavingTest {
     }
 
     private static void slotsAndHistory() {
+        Due.about("Promise 18", "everything except the pad, the slots and the history is as it was before it.");
         BeamTurnstiles x = new BeamTurnstiles();
         x.correct(5);
         x.save(0);

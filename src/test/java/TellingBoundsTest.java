@@ -40,7 +40,8 @@ final class TellingBoundsTest {
     }
 
     private static void gateErrors() {
-        Due.about("NO_SUCH if there is no such gate; BAD_VALUE if what is out of range.");
+        Due.about("Promise 8",
+            "Returns the number; NO_SUCH if there is no such gate; BAD_VALUE if what is out of range.");
         BeamTurnstiles x = Due.after("0o;5o");
         for (int gate : new int[] {-1, 6, MIN, MAX}) {
             for (int what : new int[] {-1, 0, 1, 12, 13, MIN, MAX}) {
@@ -58,7 +59,7 @@ final class TellingBoundsTest {
     }
 
     private static void gateBeganAndNone() {
-        Due.about("1 the tick at which the passage that is under way began (NONE)");
+        Due.about("Promise 8", "1 the tick at which the passage that is under way began (NONE)");
         BeamTurnstiles x = new BeamTurnstiles();
         Due.due("none yet", x.gate(3, 1), NONE);
         x.event(3, 0);
@@ -76,7 +77,7 @@ final class TellingBoundsTest {
     }
 
     private static void gatePlaceAndNone() {
-        Due.about("2 its place and 4, together (NONE without one, or if it is unsure)");
+        Due.about("Promise 8", "2 its place and 4, together (NONE without one, or if it is unsure)");
         String[] letters = {"", "o", "oi", "oio", "oioi", "i", "io", "ioi", "ioio", "b", "ob", "oibo", "oiob", "obb"};
         int[] due = {NONE, 5, 6, 7, NONE, 3, 2, 1, NONE, NONE, NONE, 5, NONE, NONE};
         for (int k = 0; k < letters.length; k++) {
@@ -87,7 +88,7 @@ final class TellingBoundsTest {
     }
 
     private static void gateSureAndNone() {
-        Due.about("3 whether it is sure (1, otherwise 0; NONE without one)");
+        Due.about("Promise 8", "3 whether it is sure (1, otherwise 0; NONE without one)");
         String[] letters = {"", "o", "oio", "oioi", "b", "bb", "ob", "oib", "obb", "bbo"};
         int[] due = {NONE, 1, 1, NONE, 0, NONE, 0, NONE, 0, 1};
         for (int k = 0; k < letters.length; k++) {
@@ -98,7 +99,7 @@ final class TellingBoundsTest {
     }
 
     private static void gateBlocked() {
-        Due.about("4 whether the gate is blocked (1 or 0)");
+        Due.about("Promise 8", "4 whether the gate is blocked (1 or 0)");
         for (int ticks = 29; ticks <= 31; ticks++) {
             BeamTurnstiles x = Due.after("3o;4b;." + ticks);
             Due.due("sure, " + ticks, x.gate(3, 4), ticks >= 30 ? 1 : 0);
@@ -108,7 +109,7 @@ final class TellingBoundsTest {
     }
 
     private static void gatePassages() {
-        Due.about("5 passages that were in so far, 6 out, 7 turned back, 8 lost");
+        Due.about("Promise 8", "5 passages that were in so far, 6 out, 7 turned back, 8 lost");
         BeamTurnstiles x = Due.after("3oioi;3oioi;3ioio;3oo;3oo;3oo;3bb;3bb;3bb;3bb");
         int[] due = {2, 1, 3, 4};
         for (int k = 0; k < due.length; k++) {
@@ -118,7 +119,7 @@ final class TellingBoundsTest {
     }
 
     private static void gateSlowOfAll() {
-        Due.about("9 slow ones, of all these");
+        Due.about("Promise 8", "9 slow ones, of all these");
         String[] begin = {"o", "i", "o", "b", "oi"};
         String[] end = {"ioi", "oio", "o", "b", ""};
         BeamTurnstiles x = new BeamTurnstiles();
@@ -137,8 +138,9 @@ final class TellingBoundsTest {
     }
 
     private static void gateTicksAndLatestEnd() {
-        Due.about("11 ticks of all passages that were in or out, together, 12 the tick at which the latest one that was "
-            + "in or out ended (NONE)");
+        Due.about("Promise 8",
+            "11 ticks of all passages that were in or out, together, 12 the tick at which the latest one that "
+            + "was in or out ended (NONE)");
         BeamTurnstiles x = new BeamTurnstiles();
         for (int gate = 0; gate < 6; gate++) {
             Due.due("at first: ticks", x.gate(gate, 11), 0);
@@ -163,7 +165,7 @@ final class TellingBoundsTest {
     }
 
     private static void countErrors() {
-        Due.about("Returns the number; BAD_VALUE if what is out of range.");
+        Due.about("Promise 9", "Returns the number; BAD_VALUE if what is out of range.");
         BeamTurnstiles x = new BeamTurnstiles();
         for (int what : new int[] {-1, 18, 19, MIN, MAX}) {
             Due.due("count(" + what + ")", x.count(what), BAD_VALUE);
@@ -174,7 +176,7 @@ final class TellingBoundsTest {
     }
 
     private static void countMostPeople() {
-        Due.about("5 the most people that were inside so far (by correct(), too)");
+        Due.about("Promise 9", "5 the most people that were inside so far (by correct(), too)");
         BeamTurnstiles x = Due.after("0oioioioi;0ioio");
         Due.due("2, not 1", x.count(5), 2);
         x.correct(2);
@@ -190,7 +192,7 @@ final class TellingBoundsTest {
     }
 
     private static void countOfAllGates() {
-        Due.about("8 to 13 of all gates together what gate() tells by 5 to 10");
+        Due.about("Promise 9", "8 to 13 of all gates together what gate() tells by 5 to 10");
         BeamTurnstiles x = new BeamTurnstiles();
         for (int gate = 0; gate < 6; gate++) {
             Due.events(x, gate, "oioioioi");
@@ -207,7 +209,8 @@ final class TellingBoundsTest {
     }
 
     private static void countMasks() {
-        Due.about("14 gates that are blocked, as a bit mask, 15 gates with a passage under way, as a bit mask");
+        Due.about("Promise 9",
+            "14 gates that are blocked, as a bit mask, 15 gates with a passage under way, as a bit mask");
         BeamTurnstiles x = new BeamTurnstiles();
         Due.due("none blocked", x.count(14), 0);
         Due.due("none under way", x.count(15), 0);
@@ -226,7 +229,7 @@ final class TellingBoundsTest {
     }
 
     private static void countPadAndHistory() {
-        Due.about("16 the length of the pad, 17 how many changes can be undone");
+        Due.about("Promise 9", "16 the length of the pad, 17 how many changes can be undone");
         BeamTurnstiles x = new BeamTurnstiles();
         Due.putText(x, "0" + "o".repeat(59));
         Due.due("full", x.count(16), 60);
@@ -242,7 +245,7 @@ final class TellingBoundsTest {
     }
 
     private static void meanErrors() {
-        Due.about("Returns the ticks; NO_SUCH if there is no such gate");
+        Due.about("Promise 10", "Returns the ticks; NO_SUCH if there is no such gate");
         BeamTurnstiles x = Due.after("0oio;.3;0i;5ioi;.4;5o");
         for (int gate : new int[] {-1, 6, MIN, MAX}) {
             Due.due("mean(" + gate + ")", x.mean(gate), NO_SUCH);
@@ -252,7 +255,7 @@ final class TellingBoundsTest {
     }
 
     private static void meanNone() {
-        Due.about("NONE if there were none.");
+        Due.about("Promise 10", "NONE if there were none.");
         BeamTurnstiles x = Due.after("2oo;2bb;2oio;.9");
         Due.due("neither in nor out yet", x.mean(2), NONE);
         x.clear(2);
@@ -265,7 +268,7 @@ final class TellingBoundsTest {
     }
 
     private static void busiestNone() {
-        Due.about("Returns the gate; NONE if there were none at any.");
+        Due.about("Promise 11", "Returns the gate; NONE if there were none at any.");
         BeamTurnstiles x = Due.after("0oo;1bb;2ii;3oio");
         Due.due("none", x.busiest(), NONE);
         x.event(3, 1);
@@ -277,7 +280,7 @@ final class TellingBoundsTest {
     }
 
     private static void busiestLowest() {
-        Due.about("Finds the gate with the most passages that were in or out; of several the lowest.");
+        Due.about("Promise 11", "Finds the gate with the most passages that were in or out; of several the lowest.");
         BeamTurnstiles x = new BeamTurnstiles();
         for (int gate = 5; gate >= 0; gate--) {
             Due.events(x, gate, gate % 2 == 0 ? "oioi" : "ioio");
@@ -293,7 +296,8 @@ final class TellingBoundsTest {
     }
 
     private static void ifReadErrors() {
-        Due.about("Returns the number; BAD_TEXT if the pad has a fault; BAD_VALUE if what is out of range.");
+        Due.about("Promise 12",
+            "Returns the number; BAD_TEXT if the pad has a fault; BAD_VALUE if what is out of range.");
         BeamTurnstiles x = new BeamTurnstiles();
         int[] wrong = {-1, 6, 7, MIN, MAX};
         for (int what : wrong) {
@@ -318,7 +322,7 @@ final class TellingBoundsTest {
     }
 
     private static void ifReadNoPassage() {
-        Due.about("0 passages that would be in by them, 1 out, 2 turned back, 3 lost");
+        Due.about("Promise 12", "what: 0 passages that would be in by them, 1 out, 2 turned back, 3 lost");
         String[] texts = {".1", "0o", "0oioi", "0ioio", "0oo", "0bb", "0oioi;0oioi;1ioio;2oo;2oo;2oo;3bb;3bb;3bb;3bb"};
         int[][] due = {{0, 0, 0, 0}, {0, 0, 0, 0}, {1, 0, 0, 0}, {0, 1, 0, 0}, {0, 0, 1, 0}, {0, 0, 0, 1}, {2, 1, 3, 4}};
         for (int k = 0; k < texts.length; k++) {
@@ -337,7 +341,7 @@ final class TellingBoundsTest {
     }
 
     private static void ifReadPeopleAndAlarms() {
-        Due.about("4 people inside then, 5 alarms by them");
+        Due.about("Promise 12", "4 people inside then, 5 alarms by them");
         String[] texts = {".1", "0oioi", "0oioioioi", "0oioioioi;1oioi", "0ioio", "0ioioioio", "0ioioioioioioioio",
             "0oioioioioioi;0ioioioio;0oioi"};
         int[] people = {2, 3, 4, 5, 1, 0, 0, 4};
@@ -355,7 +359,7 @@ final class TellingBoundsTest {
     }
 
     private static void ifReadTheLongestText() {
-        Due.about("Tells what the events of the pad would bring.");
+        Due.about("Promise 12", "Tells what the events of the pad would bring.");
         BeamTurnstiles x = new BeamTurnstiles();
         String text = "0" + "oioi".repeat(5) + "oio;.9;1" + "ioio".repeat(6) + ";5i;2bb";
         Due.due("characters", text.length(), 60);
@@ -368,7 +372,7 @@ final class TellingBoundsTest {
     }
 
     private static void ifReadChangesNothing() {
-        Due.about("what if; nothing changes.");
+        Due.about("Texts", "what if; nothing changes.");
         BeamTurnstiles x = Due.after("0oio;.20");
         Due.putText(x, "0i;.10;1oioi");
         for (int k = 0; k < 3; k++) {
@@ -386,8 +390,9 @@ final class TellingBoundsTest {
     }
 
     private static void eventsToErrors() {
-        Due.about("NO_SUCH if there is no such gate; BAD_VALUE if way is out of range; NOT_POSSIBLE if no passage is under "
-            + "way, or it is unsure");
+        Due.about("Promise 13",
+            "NO_SUCH if there is no such gate; BAD_VALUE if way is out of range; NOT_POSSIBLE if no passage is "
+            + "under way, or it is unsure");
         BeamTurnstiles x = Due.after("0o;1b;5i");
         int[] wrong = {-1, 3, 4, MIN, MAX};
         for (int gate : new int[] {-1, 6, MIN, MAX}) {
@@ -406,7 +411,7 @@ final class TellingBoundsTest {
     }
 
     private static void eventsToNotPossible() {
-        Due.about("NOT_POSSIBLE if no passage is under way, or it is unsure");
+        Due.about("Promise 13", "NOT_POSSIBLE if no passage is under way, or it is unsure");
         String[] letters = {"", "oioi", "ioio", "oo", "bb", "b", "ob", "ib", "oiob", "obb", "obi", "bo"};
         for (String each : letters) {
             BeamTurnstiles x = new BeamTurnstiles();
@@ -423,7 +428,7 @@ final class TellingBoundsTest {
     }
 
     private static void eventsToEachPlace() {
-        Due.about("NONE if it cannot end so (without ending in another way ahead of that).");
+        Due.about("Promise 13", "NONE if it cannot end so (without ending in another way ahead of that).");
         String[] letters = {"o", "oi", "oio", "oioo", "oii", "i", "io", "ioi", "ioii", "ioo"};
         int[] in = {3, 2, 1, 2, 3, NONE, NONE, NONE, NONE, NONE};
         int[] out = {NONE, NONE, NONE, NONE, NONE, 3, 2, 1, 2, 3};
@@ -438,7 +443,7 @@ final class TellingBoundsTest {
     }
 
     private static void untilBlockedAtItsBounds() {
-        Due.about("Returns how many, 1 or more");
+        Due.about("Promise 14", "Returns how many, 1 or more");
         int[] slow = {1, 2, 30, 200};
         for (int each : slow) {
             BeamTurnstiles x = new BeamTurnstiles();
@@ -456,7 +461,7 @@ final class TellingBoundsTest {
     }
 
     private static void untilBlockedNone() {
-        Due.about("NONE if none would be.");
+        Due.about("Promise 14", "NONE if none would be.");
         BeamTurnstiles x = new BeamTurnstiles();
         Due.due("nothing under way", x.untilBlocked(), NONE);
         Due.readText(x, "0oioi;1bb;2oo");
@@ -474,7 +479,7 @@ final class TellingBoundsTest {
     }
 
     private static void untilBlockedNext() {
-        Due.about("Tells behind how many ticks the next gate is blocked that is not blocked now");
+        Due.about("Promise 14", "Tells behind how many ticks the next gate is blocked that is not blocked now");
         // In whichever order of the gates the passages began.
         for (int first = 0; first < 6; first++) {
             for (int second = 0; second < 6; second++) {
@@ -489,7 +494,8 @@ final class TellingBoundsTest {
     }
 
     private static void untilBlockedAtTheEndOfTicks() {
-        Due.about("Tells behind how many ticks the next gate is blocked that is not blocked now, if no event happens.");
+        Due.about("Promise 14",
+            "Tells behind how many ticks the next gate is blocked that is not blocked now, if no event happens.");
         // The document says nothing of the end of the ticks here, so it isn't looked at.
         BeamTurnstiles x = Due.atTick(99998);
         x.event(2, 0);

@@ -33,21 +33,26 @@ final class TermsBoundsTest {
     }
 
     private static void constants() {
-        Due.about("NO_SUCH = -1, BAD_VALUE = -2, BAD_TEXT = -3, TOO_MANY = -4, NOT_POSSIBLE = -5, NONE = -6");
+        Due.about("Texts", "The constants: NO_SUCH = -1, BAD_VALUE = -2, BAD_TEXT = -3, TOO_MANY = -4, NOT_POSSIBLE = -5, "
+            + "NONE = -6: Error codes, and NONE: there is none.");
         Due.due("NO_SUCH", BeamTurnstiles.NO_SUCH, -1);
         Due.due("BAD_VALUE", BeamTurnstiles.BAD_VALUE, -2);
         Due.due("BAD_TEXT", BeamTurnstiles.BAD_TEXT, -3);
         Due.due("TOO_MANY", BeamTurnstiles.TOO_MANY, -4);
         Due.due("NOT_POSSIBLE", BeamTurnstiles.NOT_POSSIBLE, -5);
         Due.due("NONE", BeamTurnstiles.NONE, -6);
-        Due.about("SLOW = 0, TAIL = 1, LIMIT = 2");
+        Due.about("Texts", "SLOW = 0, TAIL = 1, LIMIT = 2: Settings.");
         Due.due("SLOW", BeamTurnstiles.SLOW, 0);
         Due.due("TAIL", BeamTurnstiles.TAIL, 1);
         Due.due("LIMIT", BeamTurnstiles.LIMIT, 2);
+        BeamTurnstiles x = new BeamTurnstiles();
+        Due.due("set SLOW", x.set(BeamTurnstiles.SLOW, 200), 30);
+        Due.due("set TAIL", x.set(BeamTurnstiles.TAIL, 50), 3);
+        Due.due("set LIMIT", x.set(BeamTurnstiles.LIMIT, 500), 20);
     }
 
     private static void roundedDown() {
-        Due.about("Divisions are rounded down.");
+        Due.about("CONVENTIONS", "Divisions are rounded down.");
         int[][] ticks = {{0}, {1}, {1, 0}, {1, 1}, {1, 2}, {2, 2}, {2, 0, 0}, {2, 1, 0}, {2, 2, 1}, {99, 99, 98}};
         int[] means = {0, 1, 0, 1, 1, 2, 0, 1, 1, 98};
         for (int k = 0; k < ticks.length; k++) {
@@ -68,7 +73,7 @@ final class TermsBoundsTest {
     }
 
     private static void slowAtItsBounds() {
-        Due.about("SLOW (1 to 200; 30)");
+        Due.about("Settings", "SLOW (1 to 200; 30)");
         int[][] rows = {{1, 0, 0}, {1, 1, 1}, {2, 1, 0}, {2, 2, 1}, {30, 29, 0}, {30, 30, 1}, {30, 31, 1},
             {199, 198, 0}, {199, 199, 1}, {200, 199, 0}, {200, 200, 1}, {200, 201, 1}};
         for (int[] row : rows) {
@@ -86,7 +91,7 @@ final class TermsBoundsTest {
     }
 
     private static void tailAtItsBounds() {
-        Due.about("TAIL (0 to 50; 3)");
+        Due.about("Settings", "TAIL (0 to 50; 3)");
         int[][] rows = {{0, 0, 1}, {0, 1, 0}, {1, 1, 1}, {1, 2, 0}, {3, 3, 1}, {3, 4, 0}, {49, 50, 0}, {50, 49, 1},
             {50, 50, 1}, {50, 51, 0}};
         for (int[] row : rows) {
@@ -103,7 +108,7 @@ final class TermsBoundsTest {
     }
 
     private static void limitAtItsBounds() {
-        Due.about("LIMIT (1 to 500; 20): people.");
+        Due.about("Settings", "LIMIT (1 to 500; 20): people.");
         int[] limits = {1, 2, 20, 499, 500};
         for (int limit : limits) {
             BeamTurnstiles x = new BeamTurnstiles();
@@ -119,7 +124,9 @@ final class TermsBoundsTest {
     }
 
     private static void sixGates() {
-        Due.about("There are 6 gates, 0 to 5. Each has an outer beam and an inner one, each free or cut (free at first).");
+        Due.about("Gates, beams",
+            "There are 6 gates, 0 to 5. Each has an outer beam and an inner one, each free or cut (free at "
+            + "first).");
         BeamTurnstiles x = new BeamTurnstiles();
         for (int gate = 0; gate < 6; gate++) {
             Due.due("free at first", x.gate(gate, 0), 0);
@@ -132,7 +139,7 @@ final class TermsBoundsTest {
     }
 
     private static void ticksFromZero() {
-        Due.about("Ticks are counted from 0.");
+        Due.about("Gates, beams", "Ticks are counted from 0.");
         BeamTurnstiles x = new BeamTurnstiles();
         Due.due("ticks", x.count(3), 0);
         Due.events(x, 2, "oio");
@@ -143,8 +150,9 @@ final class TermsBoundsTest {
     }
 
     private static void beginningAndEnd() {
-        Due.about("A passage begins when the look of a gate comes to be another one than 0, "
-            + "and it ends when it is 0 again.");
+        Due.about("Passages",
+            "A passage begins when the look of a gate comes to be another one than 0, and it ends when it is 0 "
+            + "again.");
         for (String way : WAYS) {
             BeamTurnstiles x = new BeamTurnstiles();
             for (int k = 0; k < way.length(); k++) {
@@ -164,7 +172,7 @@ final class TermsBoundsTest {
     }
 
     private static void beginningAnew() {
-        Due.about("It has a place, 0 when it begins from the look 0, and is sure at first.");
+        Due.about("Passages", "It has a place, 0 when it begins from the look 0, and is sure at first.");
         for (String way : WAYS) {
             BeamTurnstiles x = new BeamTurnstiles();
             x.pass(7);
@@ -186,8 +194,8 @@ final class TermsBoundsTest {
     }
 
     private static void roundTheRing() {
-        Due.about("the look becomes the next one in the ring of 0, 1, 2 and 3, and the place 1 more, "
-            + "or the one before in this ring, and the place 1 less.");
+        Due.about("Passages", "If one beam changes, the look becomes the next one in the ring of 0, 1, 2 and 3, "
+            + "and the place 1 more, or the one before in this ring, and the place 1 less.");
         // Up, down and up again, and the look 0 at each end: from 3 on to 0, and from 0 back to 3.
         places("oioi", 1, 5, 2, 6, 3, 7, 0, NONE);
         places("ioio", 3, 3, 2, 2, 1, 1, 0, NONE);
@@ -209,7 +217,7 @@ final class TermsBoundsTest {
     }
 
     private static void unsureFromThenOn() {
-        Due.about("If both change at once, the passage is unsure from then on");
+        Due.about("Passages", "If both change at once, the passage is unsure from then on");
         BeamTurnstiles x = Due.after("1oio;1b;1b");
         Due.due("look", x.gate(1, 0), 3);
         String letters = "oiiobo";
@@ -223,7 +231,7 @@ final class TermsBoundsTest {
     }
 
     private static void unsureFromTheBeginning() {
-        Due.about("(also one that begins by that)");
+        Due.about("Passages", "(also one that begins by that)");
         BeamTurnstiles x = new BeamTurnstiles();
         Due.due("look", x.event(1, 2), 2);
         Due.due("sure", x.gate(1, 3), 0);
@@ -233,7 +241,8 @@ final class TermsBoundsTest {
     }
 
     private static void ends() {
-        Due.about("it is: lost, if it is unsure; otherwise in, if its place is 4; out, if it is -4; turned back, if it is 0.");
+        Due.about("Passages", "When a passage ends, it is: lost, if it is unsure; otherwise in, if its place is 4; "
+            + "out, if it is -4; turned back, if it is 0.");
         endsBy("oioi", 5);
         endsBy("ioio", 6);
         endsBy("oo", 7);
@@ -264,7 +273,7 @@ final class TermsBoundsTest {
     }
 
     private static void neverBelowZero() {
-        Due.about("one that is out 1 less, but never below 0: then it is odd as well.");
+        Due.about("Passages", "one that is out 1 less, but never below 0: then it is odd as well.");
         BeamTurnstiles x = new BeamTurnstiles();
         x.correct(2);
         int[] people = {1, 0, 0, 0};
@@ -281,7 +290,7 @@ final class TermsBoundsTest {
     }
 
     private static void ticksOfAPassage() {
-        Due.about("A passage takes as many ticks as have gone by from its beginning to its end.");
+        Due.about("Passages", "A passage takes as many ticks as have gone by from its beginning to its end.");
         String[] texts = {"0oioi", "0o;.1;0ioi", "0oio;.1;0i", "0o;.1;0i;.2;0o;.3;0i", ".9;0i;.99;0oio;.9", "0oo;.9;0oioi",
             "0o;.5;1o;.5;0ioi"};
         int[] ticks = {0, 1, 1, 6, 99, 0, 10};
@@ -297,7 +306,7 @@ final class TermsBoundsTest {
     }
 
     private static void slowBySettingOfTheEnd() {
-        Due.about("It is slow if it takes SLOW ticks or more.");
+        Due.about("Passages", "It is slow if it takes SLOW ticks or more.");
         BeamTurnstiles x = Due.after("0o;1o;.10");
         x.set(0, 10);
         Due.events(x, 0, "o");
@@ -309,7 +318,7 @@ final class TermsBoundsTest {
     }
 
     private static void tailsBehindOthers() {
-        Due.about("if the latest passage before it at this gate that was in or out was the same way as it");
+        Due.about("Passages", "if the latest passage before it at this gate that was in or out was the same way as it");
         String[] texts = {"0oioi", "0ioio", "0oioi;0oioi", "0ioio;0ioio", "0oioi;0ioio", "0ioio;0oioi",
             "0oioi;0oo;0ii;0bb;0oioi", "0ioio;0oo;0ii;0bb;0ioio", "0oioi;0ioio;0oioi", "0ioio;0oioi;0ioio",
             "0oioi;1oioi", "0oioi;1ioio;0oioi", "0oioi;0ioio;0ioio", "0oo;0oioi", "0bb;0ioio", "0oioi;0oioi;0oioi"};
@@ -324,7 +333,7 @@ final class TermsBoundsTest {
     }
 
     private static void tailsByBeginningAndEnd() {
-        Due.about("and its beginning less the end of that is at most TAIL.");
+        Due.about("Passages", "and its beginning less the end of that is at most TAIL.");
         String[] texts = {"0oioi;.3;0o;.9;0ioi", "0oioi;.4;0o;.9;0ioi", "0o;.9;0ioi;.3;0oioi", "0o;.9;0ioi;.4;0oioi",
             "0oioi;.3;0oo;.1;0oioi", "0oioi;.2;0oo;.1;0oioi", ".50;0oioi;.3;0oioi"};
         int[] tails = {1, 0, 1, 0, 0, 1, 1};
@@ -334,7 +343,7 @@ final class TermsBoundsTest {
     }
 
     private static void blockedByTicks() {
-        Due.about("A gate is blocked if a passage is under way that began SLOW ticks ago, or longer.");
+        Due.about("Passages", "A gate is blocked if a passage is under way that began SLOW ticks ago, or longer.");
         BeamTurnstiles x = Due.after(".5;0o;.29");
         Due.due("29", x.gate(0, 4), 0);
         Due.due("mask", x.count(14), 0);
@@ -354,14 +363,15 @@ final class TermsBoundsTest {
     }
 
     private static void blockedInAnyLook() {
-        Due.about("A gate is blocked if a passage is under way");
+        Due.about("Passages", "A gate is blocked if a passage is under way");
         BeamTurnstiles x = Due.after("0o;1oi;2i;3b;4ob;.30");
         Due.due("all but one that is free", x.count(14), 31);
         Due.due("free", x.gate(5, 4), 0);
     }
 
     private static void alarmsBehindIn() {
-        Due.about("Whenever there are more people inside than LIMIT behind a passage that is in, there is an alarm "
+        Due.about("Passages",
+            "Whenever there are more people inside than LIMIT behind a passage that is in, there is an alarm "
             + "(also if there were more already).");
         BeamTurnstiles x = new BeamTurnstiles();
         x.correct(18);
@@ -379,7 +389,7 @@ final class TermsBoundsTest {
     }
 
     private static void noOtherAlarms() {
-        Due.about("behind a passage that is in");
+        Due.about("Passages", "behind a passage that is in");
         BeamTurnstiles x = new BeamTurnstiles();
         x.correct(500);
         Due.events(x, 0, "ioio");

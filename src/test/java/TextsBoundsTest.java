@@ -30,7 +30,7 @@ final class TextsBoundsTest {
     }
 
     private static void putNoCharacter() {
-        Due.about("BAD_VALUE if there is no character");
+        Due.about("Promise 15", "BAD_VALUE if there is no character");
         BeamTurnstiles x = new BeamTurnstiles();
         Due.due("put(0)", x.put(0), BAD_VALUE);
         Due.due("length", x.count(16), 0);
@@ -40,7 +40,7 @@ final class TextsBoundsTest {
     }
 
     private static void putCodesAtTheirBounds() {
-        Due.about("a code is not 33 to 126");
+        Due.about("Promise 15", "a code is not 33 to 126");
         long[] right = {33, 34, 125, 126};
         long[] wrong = {1, 31, 32, 127, 128, 160, 254, 255};
         for (int place = 0; place < 8; place++) {
@@ -62,7 +62,9 @@ final class TextsBoundsTest {
     }
 
     private static void putBitsAboveZero() {
-        Due.about("8 bits that are 0 mean that there are no more characters, and everything above them has to be 0, too.");
+        Due.about("Promise 15",
+            "8 bits that are 0 mean that there are no more characters, and everything above them has to be 0, "
+            + "too.");
         for (int place = 0; place < 7; place++) {
             long below = Due.packed("ooooooo".substring(0, place));
             for (int bit = 8 * (place + 1); bit < 64; bit++) {
@@ -75,7 +77,7 @@ final class TextsBoundsTest {
     }
 
     private static void putOneToEight() {
-        Due.about("1 to 8 characters");
+        Due.about("Promise 15", "1 to 8 characters");
         BeamTurnstiles x = new BeamTurnstiles();
         int length = 0;
         for (int more = 1; more <= 8; more++) {
@@ -86,7 +88,7 @@ final class TextsBoundsTest {
     }
 
     private static void putInOrder() {
-        Due.about("its lowest 8 bits are the last character, the next 8 bits the one before, and so on");
+        Due.about("Promise 15", "its lowest 8 bits are the last character, the next 8 bits the one before, and so on");
         // Each text is taken in this order alone.
         String[] texts = {".1;0o;.2", ".12;0oi", "5o;.98"};
         for (String text : texts) {
@@ -102,7 +104,7 @@ final class TextsBoundsTest {
     }
 
     private static void putUpToSixty() {
-        Due.about("TOO_MANY if the pad would be longer than 60.");
+        Due.about("Promise 15", "TOO_MANY if the pad would be longer than 60.");
         for (int more = 1; more <= 8; more++) {
             long characters = Due.packed("oooooooo".substring(8 - more));
             BeamTurnstiles x = new BeamTurnstiles();
@@ -120,8 +122,9 @@ final class TextsBoundsTest {
     }
 
     private static void putInOrderOfErrors() {
-        Due.about("BAD_VALUE if there is no character, a code is not 33 to 126, or a bit above 8 bits that are 0 is not 0; "
-            + "TOO_MANY if the pad would be longer than 60.");
+        Due.about("Promise 15",
+            "BAD_VALUE if there is no character, a code is not 33 to 126, or a bit above 8 bits that are 0 is "
+            + "not 0; TOO_MANY if the pad would be longer than 60.");
         BeamTurnstiles x = new BeamTurnstiles();
         Due.putText(x, FULL);
         long[] wrong = {0, 32, 127, 255, 0x6F006F, Due.packed("o\u007foooooo"), Long.MIN_VALUE, -1};
@@ -134,7 +137,7 @@ final class TextsBoundsTest {
     }
 
     private static void wipeAtTheBounds() {
-        Due.about("Empties the pad, and returns the length that it had.");
+        Due.about("Promise 16", "Empties the pad, and returns the length that it had.");
         for (int length = 0; length <= 60; length++) {
             BeamTurnstiles x = new BeamTurnstiles();
             Due.putText(x, FULL.substring(0, length));
@@ -152,7 +155,7 @@ final class TextsBoundsTest {
     }
 
     private static void wipeIsNoChange() {
-        Due.about("Undoes the latest change: everything except the pad");
+        Due.about("Promise 18", "Undoes the latest change: everything except the pad");
         BeamTurnstiles x = new BeamTurnstiles();
         x.pass(3);
         Due.putText(x, "0o");
@@ -171,18 +174,19 @@ final class TextsBoundsTest {
     }
 
     private static void faultOfNothing() {
-        Due.about("(also if it is empty)");
+        Due.about("Texts", "(also if it is empty)");
         fault("", 0);
         BeamTurnstiles x = Due.after("0o");
         Due.due("behind read()", x.fault(), 0);
-        Due.about("Returns the fault of the pad, NONE if there is none.");
+        Due.about("Promise 17", "Returns the fault of the pad, NONE if there is none.");
         fault("0o", NONE);
         fault(".1", NONE);
         fault(FULL, NONE);
     }
 
     private static void faultTooEarly() {
-        Due.about("if there is none and the text ends too early (also if it is empty), it is the length of the text.");
+        Due.about("Texts",
+            "if there is none and the text ends too early (also if it is empty), it is the length of the text.");
         fault("0", 1);
         fault(".", 1);
         fault("0o;", 3);
@@ -197,7 +201,7 @@ final class TextsBoundsTest {
     }
 
     private static void faultAtGates() {
-        Due.about("a gate is a digit 0 to 5");
+        Due.about("Texts", "a gate is a digit 0 to 5");
         fault("0o", NONE);
         fault("5o", NONE);
         fault("6o", 0);
@@ -212,7 +216,8 @@ final class TextsBoundsTest {
     }
 
     private static void faultAtLetters() {
-        Due.about("a letter o (its outer beam changes), i (its inner one) or b (both at once), one after the other");
+        Due.about("Texts",
+            "a letter o (its outer beam changes), i (its inner one) or b (both at once), one after the other");
         fault("0oib", NONE);
         fault("0n", 1);
         fault("0p", 1);
@@ -231,7 +236,7 @@ final class TextsBoundsTest {
     }
 
     private static void faultAtNumbers() {
-        Due.about("a number is 1 to 99 without leading zeros");
+        Due.about("Texts", "a number is 1 to 99 without leading zeros");
         fault(".0", 1);
         fault(".1", NONE);
         fault(".9", NONE);
@@ -256,7 +261,7 @@ final class TextsBoundsTest {
     }
 
     private static void faultBetweenEvents() {
-        Due.about("text = event { \";\" event }");
+        Due.about("Texts", "text = event { \";\" event }");
         fault(";", 0);
         fault(";0o", 0);
         fault("0o;;1o", 3);
@@ -272,8 +277,9 @@ final class TextsBoundsTest {
     }
 
     private static void faultIsTheFirst() {
-        Due.about("The fault is the index of the first character that cannot stand at its place when the text is read from "
-            + "left to right");
+        Due.about("Texts",
+            "The fault is the index of the first character that cannot stand at its place when the text is "
+            + "read from left to right");
         fault("xxxx", 0);
         fault("0xx;6o", 1);
         fault("0o;6o;.0;", 3);
@@ -288,7 +294,7 @@ final class TextsBoundsTest {
     }
 
     private static void faultAtTheLastOfSixty() {
-        Due.about("The pad is a text of at most 60 characters");
+        Due.about("Texts", "The pad is a text of at most 60 characters");
         fault(FULL, NONE);
         fault(FULL.substring(0, 59) + "x", 59);
         fault(FULL.substring(0, 58) + "xo", 58);
@@ -298,7 +304,7 @@ final class TextsBoundsTest {
     }
 
     private static void gatesAndLetters() {
-        Due.about("a letter o (its outer beam changes), i (its inner one) or b (both at once)");
+        Due.about("Texts", "a letter o (its outer beam changes), i (its inner one) or b (both at once)");
         for (int gate = 0; gate < 6; gate++) {
             for (int beam = 0; beam < 3; beam++) {
                 BeamTurnstiles x = Due.after("" + gate + "oib".charAt(beam));
@@ -309,7 +315,7 @@ final class TextsBoundsTest {
     }
 
     private static void numbersOfTicks() {
-        Due.about("a number is 1 to 99 without leading zeros: so many ticks go by.");
+        Due.about("Texts", "a number is 1 to 99 without leading zeros: so many ticks go by.");
         for (int ticks = 1; ticks <= 99; ticks++) {
             Due.due("ticks by ." + ticks, Due.after("." + ticks).count(3), ticks);
         }

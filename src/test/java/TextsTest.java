@@ -1,3 +1,8 @@
+import java.util.ArrayList;
+import java.util.List;
+import java.util.regex.Matcher;
+import java.util.regex.Pattern;
+
 /** Promises 15 to 17: put, wipe, fault; and the texts that they are about. */
 final class TextsTest {
     private static final int BAD_VALUE = -2, BAD_TEXT = -3, TOO_MANY = -4, NONE = -6;
@@ -7,17 +12,22 @@ final class TextsTest {
 
     public static void main(String[] args) {
         putting();
+        puttingUpToEight();
         puttingWrongly();
         puttingTooMany();
         wiping();
         faultless();
         faults();
+        allShortTexts();
         faultAtEveryCharacter();
         notAChange();
         Due.end("TextsTest");
     }
 
     private static void putting() {
+        Due.about("Promise 15",
+            "Appends characters to the pad. They are given as a number: its lowest 8 bits are the last "
+            + "character, the next 8 bits the one before, and so on");
         BeamTurnstiles x = new BeamTurnstiles();
         Due.due("one", x.put('!'), 1);
         Due.due("two", x.put(Due.packed("~~")), 3);
@@ -32,7 +42,22 @@ final class TextsTest {
         Due.due("ticks", x.count(3), 12);
     }
 
+    private static void puttingUpToEight() {
+        Due.about("Promise 15", "characters: 1 to 8 characters Returns the length of the pad then");
+        for (int number = 1; number <= 8; number++) {
+            BeamTurnstiles x = new BeamTurnstiles();
+            for (int times = 1; times * number <= 60; times++) {
+                Due.due(number + " characters", x.put(Due.packed("~!~!~!~!".substring(0, number))), times * number);
+                Due.due("length", x.count(16), times * number);
+            }
+        }
+        Due.due("no character", new BeamTurnstiles().put(0), BAD_VALUE);
+    }
+
     private static void puttingWrongly() {
+        Due.about("Promise 15",
+            "BAD_VALUE if there is no character, a code is not 33 to 126, or a bit above 8 bits that are 0 is "
+            + "not 0");
         BeamTurnstiles x = new BeamTurnstiles();
         x.put('0');
         long[] wrong = {0, 32, 127, 1, 255, 0x2000, 0x3000, 0x300030, 0x3000000000000030L, 0x0100000000000000L,
@@ -49,6 +74,7 @@ final class TextsTest {
     }
 
     private static void puttingTooMany() {
+        Due.about("Promise 15", "TOO_MANY if the pad would be longer than 60.");
         BeamTurnstiles x = new BeamTurnstiles();
         Due.putText(x, "0" + "o".repeat(54));
         Due.due("61", x.put(Due.packed("oooooo")), TOO_MANY);
@@ -62,6 +88,7 @@ final class TextsTest {
     }
 
     private static void wiping() {
+        Due.about("Promise 16", "Empties the pad, and returns the length that it had.");
         BeamTurnstiles x = new BeamTurnstiles();
         Due.due("empty", x.wipe(), 0);
         Due.putText(x, "0oi;0x");
@@ -85,6 +112,7 @@ final class TextsTest {
     }
 
     private static void faultless() {
+        Due.about("Promise 17", "Returns the fault of the pad, NONE if there is none.");
         String[] texts = {"0o", "5b", "0oib", "3iiiiiii", ".1", ".9", ".10", ".19", ".90", ".99", "0o;1i", ".1;.2",
             "0o;.5;0o", ".5;0o;.5", "0" + "b".repeat(59)};
         for (String text : texts) {
@@ -93,6 +121,7 @@ final class TextsTest {
     }
 
     private static void faults() {
+        Due.about("Promise 17", "Returns the fault of the pad, NONE if there is none.");
         String[] texts = {"0", ".", ";", "o", "6o", "9o", "00", "0o1", "0o0", "0o.", "0o.1", "0o;", "0o;;", "0;", "0x",
             "0O", ".0", ".01", ".a", ".;", "..", ".100", ".1.", ".1o", ".12o", ".1;", ".12;", ".5;.", "0o;x", "0o;0",
             "1", "12", "/o", ":o", "-o", "0o,1o", "0o;6", "0o;o", "b", "0oa", "0ob1", ".1:", ".1/", ".:", "./", ".123;"};
@@ -105,8 +134,40 @@ final class TextsTest {
         }
     }
 
+    /** All texts of up to 5 of these characters; the fault is where a text ceases to be the beginning of a right one. */
+    private static void allShortTexts() {
+        Due.about("Texts", "events: text = event { \";\" event }; event = gate letter { letter } | \".\" number");
+        Pattern right = Pattern.compile("E(;E)*".replace("E", "([0-5][oib]+|\\.[1-9][0-9]?)"));
+        List<String> texts = new ArrayList<>(List.of(""));
+        for (int k = 0; k < texts.size(); k++) {
+            String text = texts.get(k);
+            BeamTurnstiles x = new BeamTurnstiles();
+            x.put(Due.packed(text));
+            Matcher whole = right.matcher(text);
+            boolean isRight = whole.matches();
+            boolean isBeginning = isRight || whole.hitEnd();
+            Due.due("fault of " + text, x.fault(), isRight ? NONE : isBeginning ? text.length() : firstFault(right, text));
+            for (int c = 0; c < 8 && text.length() < 5; c++) {
+                texts.add(text + "059oi.;6".charAt(c));
+            }
+        }
+    }
+
+    private static int firstFault(Pattern right, String text) {
+        int at = 0;
+        Matcher beginning = right.matcher(text.substring(0, 1));
+        while (beginning.matches() || beginning.hitEnd()) {
+            at++;
+            beginning = right.matcher(text.substring(0, at + 1));
+        }
+        return at;
+    }
+
     /** At each place of the text: which characters can stand there. */
     private static void faultAtEveryCharacter() {
+        Due.about("Texts",
+            "The fault is the index of the first character that cannot stand at its place when the text is "
+            + "read from left to right");
         String[] before = {"", "0", "0o", ".", ".5", ".55", "0o;"};
         String[] can = {"012345.", "oib", "oib;", "123456789", "0123456789;", ";", "012345."};
         for (int k = 0; k < before.length; k++) {
@@ -120,6 +181,7 @@ final class TextsTest {
     }
 
     private static void notAChange() {
+        Due.about("Texts", "Ahead of the calls put, wipe, fault the interface says: ---- texts.");
         BeamTurnstiles x = new BeamTurnstiles();
         Due.putText(x, "0o");
         x.fault();

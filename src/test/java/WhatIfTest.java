@@ -11,6 +11,7 @@ final class WhatIfTest {
         readingAheadAndThen();
         waysToGo();
         waysToGoAfterTurns();
+        waysTried();
         wrongWays();
         blockedNext();
         Due.end("WhatIfTest");
@@ -23,6 +24,7 @@ final class WhatIfTest {
     }
 
     private static void readingAhead() {
+        Due.about("Promise 12", "Tells what the events of the pad would bring.");
         BeamTurnstiles x = new BeamTurnstiles();
         x.set(2, 2);
         Due.readText(x, "0oioi;0oioi;0oioi;1ioio;2oo;3bb;4o");
@@ -41,6 +43,7 @@ final class WhatIfTest {
     }
 
     private static void readingAheadWrongly() {
+        Due.about("Promise 12", "BAD_TEXT if the pad has a fault; BAD_VALUE if what is out of range.");
         BeamTurnstiles x = new BeamTurnstiles();
         Due.due("empty", x.ifRead(0), BAD_TEXT);
         Due.due("empty, no what", x.ifRead(6), BAD_TEXT);
@@ -57,6 +60,7 @@ final class WhatIfTest {
     }
 
     private static void readingAheadAndThen() {
+        Due.about("Promise 12", "Tells what the events of the pad would bring.");
         BeamTurnstiles x = new BeamTurnstiles();
         Due.putText(x, "0oioi;.9;1o");
         foreseen(x, 1, 0, 0, 0, 1, 0);
@@ -68,6 +72,9 @@ final class WhatIfTest {
     }
 
     private static void waysToGo() {
+        Due.about("Promise 13",
+            "Tells how many events of one beam each it takes at least until the passage of a gate that is "
+            + "under way would end in some way.");
         String[] texts = {"0o", "0oi", "0oio", "0i", "0io", "0ioi"};
         int[][] due = {{3, NONE, 1}, {2, NONE, 2}, {1, NONE, 3}, {NONE, 3, 1}, {NONE, 2, 2}, {NONE, 1, 3}};
         for (int k = 0; k < texts.length; k++) {
@@ -79,13 +86,69 @@ final class WhatIfTest {
     }
 
     private static void waysToGoAfterTurns() {
+        Due.about("Promise 13",
+            "Tells how many events of one beam each it takes at least until the passage of a gate that is "
+            + "under way would end in some way.");
         BeamTurnstiles x = Due.after("1oiooio;1ioiioi;1oio;1o");
         Due.due("in", x.eventsTo(1, 0), 2);
         Due.due("out", x.eventsTo(1, 1), NONE);
         Due.due("back", x.eventsTo(1, 2), 2);
     }
 
+    /** From wherever up to 5 events lead: all rows of events are tried, the short ones first. */
+    private static void waysTried() {
+        Due.about("Promise 13", "way: 0 in, 1 out, 2 turned back Returns how many");
+        for (int length = 1; length <= 5; length++) {
+            for (int order = 0; order < 1 << length; order++) {
+                String letters = letters(order, length);
+                BeamTurnstiles x = new BeamTurnstiles();
+                Due.events(x, 4, letters);
+                for (int way = 0; way < 3 && x.gate(4, 0) != 0; way++) {
+                    Due.due(letters + " to " + way, x.eventsTo(4, way), fewest(letters, way));
+                }
+            }
+        }
+    }
+
+    private static String letters(int order, int length) {
+        StringBuilder letters = new StringBuilder();
+        for (int k = 0; k < length; k++) {
+            letters.append("oi".charAt(order >> k & 1));
+        }
+        return letters.toString();
+    }
+
+    private static int fewest(String letters, int way) {
+        for (int length = 1; length <= 6; length++) {
+            for (int order = 0; order < 1 << length; order++) {
+                if (endsSo(letters, letters(order, length), way)) {
+                    return length;
+                }
+            }
+        }
+        return NONE;
+    }
+
+    /** Whether the passage that is under way ends just by the last event, and in this way. */
+    private static boolean endsSo(String letters, String more, int way) {
+        BeamTurnstiles x = new BeamTurnstiles();
+        Due.events(x, 4, letters);
+        int ended = ended(x);
+        Due.events(x, 4, more.substring(0, more.length() - 1));
+        boolean underWayYet = ended(x) == ended;
+        int endedSo = x.gate(4, 5 + way);
+        Due.events(x, 4, more.substring(more.length() - 1));
+        return underWayYet && x.gate(4, 5 + way) > endedSo;
+    }
+
+    private static int ended(BeamTurnstiles x) {
+        return x.count(8) + x.count(9) + x.count(10);
+    }
+
     private static void wrongWays() {
+        Due.about("Promise 13",
+            "NO_SUCH if there is no such gate; BAD_VALUE if way is out of range; NOT_POSSIBLE if no passage is "
+            + "under way, or it is unsure");
         BeamTurnstiles x = Due.after("5o;4b;3ob;2oioi;1bb");
         int[] noGates = {-1, 6, Integer.MIN_VALUE, Integer.MAX_VALUE};
         for (int gate : noGates) {
@@ -106,6 +169,8 @@ final class WhatIfTest {
     }
 
     private static void blockedNext() {
+        Due.about("Promise 14",
+            "Tells behind how many ticks the next gate is blocked that is not blocked now, if no event happens.");
         BeamTurnstiles x = new BeamTurnstiles();
         Due.due("nothing under way", x.untilBlocked(), NONE);
         x.event(3, 2);
