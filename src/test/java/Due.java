@@ -17,7 +17,7 @@ final class Due {
     private Due() {
     }
 
-    /** Names the sentence of the document, by its head and in its own words, that the answers from here on are about. */
+    /** Names the sentence of the document, by its head and its own words, that the answers from here on are about. */
     static void about(String head, String words) {
         quotation = head + "\t" + words;
         sentence = head + ", \"" + words + "\": ";

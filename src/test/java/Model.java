@@ -229,7 +229,8 @@ final class Model {
             case 5, 6, 7, 8 -> now.number(gate, "iotl".charAt(what - 5));
             case 9 -> (int) now.ended.stream().filter(e -> e.gate == gate && e.slow).count();
             case 10 -> (int) now.ended.stream().filter(e -> e.gate == gate && e.tail).count();
-            case 11 -> now.ended.stream().filter(e -> e.gate == gate && e.cameThrough()).mapToInt(e -> e.end - e.begin).sum();
+            case 11 -> now.ended.stream().filter(e -> e.gate == gate && e.cameThrough())
+                .mapToInt(e -> e.end - e.begin).sum();
             default -> now.latest(gate) == null ? NONE : now.latest(gate).end;
         };
     }

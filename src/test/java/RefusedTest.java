@@ -66,10 +66,10 @@ final class RefusedTest {
                 }
             }
         }
-        Due.same("codes by method", codes.toString(), "{busiest=[-6], clear=[-5, -1], correct=[-2], count=[-2], "
-            + "event=[-2, -1], eventsTo=[-6, -5, -2, -1], fault=[-6], gate=[-6, -2, -1], ifRead=[-3, -2], mean=[-6, -1], "
-            + "pass=[-4, -2], put=[-4, -2], read=[-3], restore=[-5, -2], save=[-2], set=[-2], undo=[-5], "
-            + "untilBlocked=[-6], wipe=[]}");
+        Due.same("codes by method", codes.toString(),
+            "{busiest=[-6], clear=[-5, -1], correct=[-2], count=[-2], event=[-2, -1], eventsTo=[-6, -5, -2, -1], "
+            + "fault=[-6], gate=[-6, -2, -1], ifRead=[-3, -2], mean=[-6, -1], pass=[-4, -2], put=[-4, -2], "
+            + "read=[-3], restore=[-5, -2], save=[-2], set=[-2], undo=[-5], untilBlocked=[-6], wipe=[]}");
     }
 
     private static int refusedOn(String name, Supplier<BeamTurnstiles> makes) {

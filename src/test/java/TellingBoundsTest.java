@@ -324,7 +324,8 @@ final class TellingBoundsTest {
     private static void ifReadNoPassage() {
         Due.about("Promise 12", "what: 0 passages that would be in by them, 1 out, 2 turned back, 3 lost");
         String[] texts = {".1", "0o", "0oioi", "0ioio", "0oo", "0bb", "0oioi;0oioi;1ioio;2oo;2oo;2oo;3bb;3bb;3bb;3bb"};
-        int[][] due = {{0, 0, 0, 0}, {0, 0, 0, 0}, {1, 0, 0, 0}, {0, 1, 0, 0}, {0, 0, 1, 0}, {0, 0, 0, 1}, {2, 1, 3, 4}};
+        int[][] due = {{0, 0, 0, 0}, {0, 0, 0, 0}, {1, 0, 0, 0}, {0, 1, 0, 0}, {0, 0, 1, 0}, {0, 0, 0, 1},
+            {2, 1, 3, 4}};
         for (int k = 0; k < texts.length; k++) {
             // What has been so far must not be counted again.
             BeamTurnstiles x = Due.after("0oioi;1ioio;2oo;3bb;4oioi;4ioio;5oo;5bb");

@@ -33,8 +33,8 @@ final class TermsBoundsTest {
     }
 
     private static void constants() {
-        Due.about("Texts", "The constants: NO_SUCH = -1, BAD_VALUE = -2, BAD_TEXT = -3, TOO_MANY = -4, NOT_POSSIBLE = -5, "
-            + "NONE = -6: Error codes, and NONE: there is none.");
+        Due.about("Texts", "The constants: NO_SUCH = -1, BAD_VALUE = -2, BAD_TEXT = -3, TOO_MANY = -4, "
+            + "NOT_POSSIBLE = -5, NONE = -6: Error codes, and NONE: there is none.");
         Due.due("NO_SUCH", BeamTurnstiles.NO_SUCH, -1);
         Due.due("BAD_VALUE", BeamTurnstiles.BAD_VALUE, -2);
         Due.due("BAD_TEXT", BeamTurnstiles.BAD_TEXT, -3);
@@ -291,8 +291,8 @@ final class TermsBoundsTest {
 
     private static void ticksOfAPassage() {
         Due.about("Passages", "A passage takes as many ticks as have gone by from its beginning to its end.");
-        String[] texts = {"0oioi", "0o;.1;0ioi", "0oio;.1;0i", "0o;.1;0i;.2;0o;.3;0i", ".9;0i;.99;0oio;.9", "0oo;.9;0oioi",
-            "0o;.5;1o;.5;0ioi"};
+        String[] texts = {"0oioi", "0o;.1;0ioi", "0oio;.1;0i", "0o;.1;0i;.2;0o;.3;0i", ".9;0i;.99;0oio;.9",
+            "0oo;.9;0oioi", "0o;.5;1o;.5;0ioi"};
         int[] ticks = {0, 1, 1, 6, 99, 0, 10};
         for (int k = 0; k < texts.length; k++) {
             Due.due("ticks by " + texts[k], Due.after(texts[k]).gate(0, 11), ticks[k]);
@@ -340,6 +340,13 @@ final class TermsBoundsTest {
         for (int k = 0; k < texts.length; k++) {
             Due.due("tails by " + texts[k], Due.after(texts[k]).gate(0, 10), tails[k]);
         }
+        BeamTurnstiles x = Due.after("0oioi;1oioi;.7;0o;1o");
+        x.set(1, 7);
+        Due.events(x, 0, "ioi");
+        x.set(1, 6);
+        Due.events(x, 1, "ioi");
+        Due.due("TAIL 7 when it ends", x.gate(0, 10), 1);
+        Due.due("TAIL 6 when it ends", x.gate(1, 10), 0);
     }
 
     private static void blockedByTicks() {

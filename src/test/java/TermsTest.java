@@ -29,8 +29,9 @@ final class TermsTest {
     }
 
     private static void steps() {
-        Due.about("What it is", "Turnstiles that count by beams cut in order: gates with an outer and an inner beam, ticks, "
-            + "beams that are cut and freed, steps by which somebody comes through a gate, in or out, or turns back, "
+        Due.about("What it is",
+            "Turnstiles that count by beams cut in order: gates with an outer and an inner beam, ticks, beams "
+            + "that are cut and freed, steps by which somebody comes through a gate, in or out, or turns back, "
             + "beams that change both at once, so that nobody knows the way, gates that are blocked for too long, "
             + "passages that follow one another too soon, people inside, a limit above which gates alarm");
         BeamTurnstiles x = new BeamTurnstiles();
@@ -282,7 +283,8 @@ final class TermsTest {
     }
 
     private static void callsThatChange() {
-        Due.about("Texts", "Ahead of the calls set, event, pass, read, correct, clear the interface says: ---- changes.");
+        Due.about("Texts",
+            "Ahead of the calls set, event, pass, read, correct, clear the interface says: ---- changes.");
         changed("set", x -> x.set(1, 4));
         changed("event", x -> x.event(0, 1));
         changed("pass", x -> x.pass(1));

@@ -47,7 +47,8 @@ final class TextsBoundsTest {
             for (int length = place + 1; length <= 8; length++) {
                 long others = Due.packed("oooooooo".substring(0, length)) & ~(255L << (8 * place));
                 for (long code : right) {
-                    Due.due("code " + code + " at " + place, new BeamTurnstiles().put(others | code << (8 * place)), length);
+                    BeamTurnstiles x = new BeamTurnstiles();
+                    Due.due("code " + code + " at " + place, x.put(others | code << (8 * place)), length);
                 }
                 for (long code : wrong) {
                     BeamTurnstiles x = new BeamTurnstiles();

@@ -124,7 +124,8 @@ final class TextsTest {
         Due.about("Promise 17", "Returns the fault of the pad, NONE if there is none.");
         String[] texts = {"0", ".", ";", "o", "6o", "9o", "00", "0o1", "0o0", "0o.", "0o.1", "0o;", "0o;;", "0;", "0x",
             "0O", ".0", ".01", ".a", ".;", "..", ".100", ".1.", ".1o", ".12o", ".1;", ".12;", ".5;.", "0o;x", "0o;0",
-            "1", "12", "/o", ":o", "-o", "0o,1o", "0o;6", "0o;o", "b", "0oa", "0ob1", ".1:", ".1/", ".:", "./", ".123;"};
+            "1", "12", "/o", ":o", "-o", "0o,1o", "0o;6", "0o;o", "b", "0oa", "0ob1", ".1:", ".1/", ".:", "./",
+            ".123;"};
         int[] due = {1, 1, 0, 0, 0, 0, 1, 2, 2, 2, 2, 3, 3, 1, 1,
             1, 1, 1, 1, 1, 1, 3, 2, 2, 3, 3, 4, 4, 3, 4,
             1, 1, 0, 0, 0, 2, 3, 3, 0, 2, 3, 2, 2, 1, 1, 3};
@@ -134,7 +135,7 @@ final class TextsTest {
         }
     }
 
-    /** All texts of up to 5 of these characters; the fault is where a text ceases to be the beginning of a right one. */
+    /** All texts of up to 5 of these characters; the fault is where one ceases to be the beginning of a right one. */
     private static void allShortTexts() {
         Due.about("Texts", "events: text = event { \";\" event }; event = gate letter { letter } | \".\" number");
         Pattern right = Pattern.compile("E(;E)*".replace("E", "([0-5][oib]+|\\.[1-9][0-9]?)"));
@@ -146,7 +147,8 @@ final class TextsTest {
             Matcher whole = right.matcher(text);
             boolean isRight = whole.matches();
             boolean isBeginning = isRight || whole.hitEnd();
-            Due.due("fault of " + text, x.fault(), isRight ? NONE : isBeginning ? text.length() : firstFault(right, text));
+            int wrong = isBeginning ? text.length() : firstFault(right, text);
+            Due.due("fault of " + text, x.fault(), isRight ? NONE : wrong);
             for (int c = 0; c < 8 && text.length() < 5; c++) {
                 texts.add(text + "059oi.;6".charAt(c));
             }
