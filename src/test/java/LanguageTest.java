@@ -18,6 +18,8 @@ final class LanguageTest {
         "import", "package", "instanceof", "Exception", "Exact", "->", "::", "static\\s*\\{", "hashCode", "toString",
         "System\\.(?!arraycopy)", "float", "double", "strictfp", "native", "volatile", "transient", "protected"};
 
+    private static final Set<String> LIBRARY = Set.of("Math.abs", "Math.min", "Integer.bitCount", "System.arraycopy");
+
     private LanguageTest() {
     }
 
@@ -26,7 +28,9 @@ final class LanguageTest {
         String source = Files.readString(Path.of("src/main/java/BeamTurnstiles.java"));
         face(document);
         privateNames();
+        sizes(source);
         words(source);
+        library(source);
         Due.end("LanguageTest");
     }
 
@@ -103,8 +107,52 @@ final class LanguageTest {
         }
     }
 
+    private static void sizes(String source) {
+        Class<?>[] inside = BeamTurnstiles.class.getDeclaredClasses();
+        Due.due("at most 12 classes", Math.max(inside.length + 1, 12), 12);
+        Set<Class<?>> classes = new HashSet<>(Arrays.asList(inside));
+        classes.add(BeamTurnstiles.class);
+        for (Class<?> any : classes) {
+            Field[] fields = any.getDeclaredFields();
+            long own = Arrays.stream(fields).filter(field -> !Modifier.isStatic(field.getModifiers())).count();
+            Due.due("at most 20 fields: " + any, Math.max(own, 20), 20);
+            for (Method method : any.getDeclaredMethods()) {
+                Due.due("at most 7 parameters: " + method, Math.max(method.getParameterCount(), 7), 7);
+            }
+        }
+        // A method ends where its indentation comes back.
+        Pattern block = Pattern.compile("(?m)^( {4}| {8})(?! |\\}).*\\) \\{\n((?:\\1 .*\n|\n)*)\\1\\}$");
+        Matcher method = block.matcher(source);
+        int methods = 0;
+        while (method.find()) {
+            methods++;
+            Due.due("at most 60 lines: " + method.group(), Math.max(method.group(2).lines().count(), 60), 60);
+        }
+        Due.due("more than 19 methods are found", methods > 19 ? 1 : 0, 1);
+    }
+
+    private static void library(String source) {
+        Matcher call = Pattern.compile("\\b([A-Z]\\w*)\\.[a-z]\\w*\\(").matcher(withoutComments(source));
+        while (call.find()) {
+            String name = call.group().substring(0, call.group().length() - 1);
+            boolean own = source.contains("class " + call.group(1) + " ");
+            Due.due("in the library or of its own: " + name, own || LIBRARY.contains(name) ? 1 : 0, 1);
+        }
+        for (Class<?> inside : BeamTurnstiles.class.getDeclaredClasses()) {
+            for (Field field : inside.getDeclaredFields()) {
+                String type = field.getType().getName();
+                boolean numbers = type.matches("int|char|boolean|\\[+[ICZ]");
+                Due.due("a number, or an array of them: " + field, numbers ? 1 : 0, 1);
+            }
+        }
+    }
+
+    private static String withoutComments(String source) {
+        return source.replaceAll("(?s)/\\*.*?\\*/", "").replaceAll("//[^\n]*", "");
+    }
+
     private static void words(String source) {
-        String code = source.replaceAll("(?s)/\\*.*?\\*/", "").replaceAll("//[^\n]*", "");
+        String code = withoutComments(source);
         for (String word : FORBIDDEN) {
             String whole = Character.isLetter(word.charAt(0)) ? "\\b" + word : word;
             String end = Character.isLetter(word.charAt(word.length() - 1)) ? "\\b" : "";
